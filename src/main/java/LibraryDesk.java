@@ -126,7 +126,7 @@ public final class LibraryDesk {
         || (op == 21 || op == 22) && !hash) {
       throw new UnsupportedOperationException();
     }
-    return maps.answer(t, op, a, b, other);
+    return op == 20 ? maps.putAll(t, other) : maps.answer(t, op, a, b, other);
   }
 
   public int view(int o, int kind, int a, int b)
@@ -417,7 +417,7 @@ public final class LibraryDesk {
           UnsupportedOperationException, ArithmeticException {
     takeTape();
     streams.readAll();
-    streams.findSource();
+    streams.keepSource();
     int free = streams.makesOne() ? Thing.freePlace(shelf) : -1;
     return streams.play(free);
   }
@@ -443,7 +443,16 @@ public final class LibraryDesk {
     if (n < 0 || n > 4000) {
       throw new IllegalArgumentException();
     }
-    return threads.actByTurns(s, n);
+    int seed = s;
+    for (int done = 0; done < n; done++) {
+      int ready = threads.howManyReady();
+      if (ready == 0) {
+        return done;
+      }
+      seed = Rows.nextSeed(seed);
+      threads.act(threads.readyOne(Rows.drawn(seed, ready)));
+    }
+    return n;
   }
 
   public int tick(int n) throws IllegalArgumentException {
@@ -744,7 +753,13 @@ public final class LibraryDesk {
       parent = -1;
       root = this;
       size = 0;
-      cap = newKind == RING ? Math.max(8, Integer.highestOneBit(Math.max(a, 1)) * 2) : a;
+      cap = a;
+      if (newKind == RING) {
+        cap = 8;
+        while (cap <= a && cap < 1 << 20) {
+          cap *= 2;
+        }
+      }
       rule = newKind == TREE ? a : b;
       table = 0;
       changes = 0;
@@ -955,7 +970,7 @@ public final class LibraryDesk {
     }
 
     void skip() {
-      while (get(at) == ' ') {
+      while (at < size && get(at) == ' ') {
         at++;
       }
     }
@@ -964,7 +979,7 @@ public final class LibraryDesk {
     int known(String words) {
       skip();
       int to = at;
-      while (get(to) >= 'a' && get(to) <= 'z') {
+      while (to < size && get(to) >= 'a' && get(to) <= 'z') {
         to++;
       }
       int from = 0;
@@ -1008,8 +1023,9 @@ public final class LibraryDesk {
       int p = minus ? at + 1 : at;
       int first = p;
       int v = 0;
-      for (int b = get(p); b >= '0' && b <= '9'; b = get(++p)) {
-        v = p - first < 9 ? v * 10 + b - '0' : v;
+      while (p < size && get(p) >= '0' && get(p) <= '9') {
+        v = p - first < 9 ? v * 10 + get(p) - '0' : v;
+        p++;
       }
       v = minus ? -v : v;
       if (p == first || p - first > 9 || v < least || v > most) {
@@ -1576,8 +1592,6 @@ public final class LibraryDesk {
           return sum(t);
         case 19:
           return same(t, other);
-        case 20:
-          return putAll(t, other);
         case 21:
           return t.table;
         case 22:
@@ -1594,20 +1608,16 @@ public final class LibraryDesk {
       if ((t.edges & LO) == 0) {
         return 0;
       }
-      return (t.edges & LO_ITSELF) != 0 ? notBefore(t.root, t.lo) : behind(t.root, t.lo);
+      return edge(t.root, t.lo, (t.edges & LO_ITSELF) == 0);
     }
 
-    /** The place behind the last one; of a SUBMAP that can have no key it is first. */
+    /** The place behind the last one; of a SUBMAP that can have no key it may be below first. */
     private int limit(Thing t) {
-      if ((t.edges & HI) == 0) {
-        return t.root.size;
-      }
-      int to = (t.edges & HI_ITSELF) != 0 ? behind(t.root, t.hi) : notBefore(t.root, t.hi);
-      return Math.max(to, first(t));
+      return (t.edges & HI) == 0 ? t.root.size : edge(t.root, t.hi, (t.edges & HI_ITSELF) != 0);
     }
 
     int sizeOf(Thing t) {
-      return limit(t) - first(t);
+      return Math.max(limit(t) - first(t), 0);
     }
 
     private static boolean isTurned(Thing t) {
@@ -1619,25 +1629,19 @@ public final class LibraryDesk {
       return isTurned(t) ? limit(t) - 1 - i : first(t) + i;
     }
 
-    /** In a TREE: the first place of a key that is not before this one. */
-    private static int notBefore(Thing tree, int key) {
+    /** In a TREE: the first place of a key that is not before this one, or that is behind it. */
+    private static int edge(Thing tree, int key, boolean behind) {
       int from = 0;
       int to = tree.size;
       while (from < to) {
         int m = (from + to) / 2;
-        if (Rows.compare(tree.rule, tree.row[m], key) < 0) {
+        if (Rows.compare(tree.rule, tree.row[m], key) < (behind ? 1 : 0)) {
           from = m + 1;
         } else {
           to = m;
         }
       }
       return from;
-    }
-
-    /** In a TREE: the first place of a key that is behind this one. */
-    private static int behind(Thing tree, int key) {
-      int i = notBefore(tree, key);
-      return i < tree.size && Rows.compare(tree.rule, tree.row[i], key) == 0 ? i + 1 : i;
     }
 
     private static int binOf(Thing hash, int key) {
@@ -1666,9 +1670,9 @@ public final class LibraryDesk {
     int find(Thing t, int key) {
       Thing m = t.root;
       if (m.kind == Thing.TREE) {
-        int i = notBefore(m, key);
+        int i = edge(m, key, false);
         boolean there = i < m.size && Rows.compare(m.rule, m.row[i], key) == 0;
-        return there && i >= first(t) && i < limit(t) ? i : -1;
+        return there && isInside(t, key) ? i : -1;
       }
       int from = m.kind == Thing.HASH ? binStart(m, binOf(m, key)) : 0;
       int to = m.kind == Thing.HASH ? binStart(m, binOf(m, key) + 1) : m.size;
@@ -1694,24 +1698,19 @@ public final class LibraryDesk {
     }
 
     private void enter(Thing m, int key, int value) {
-      if (m.kind == Thing.HASH) {
-        enterHash(m, key, value);
-      } else if (m.kind == Thing.TREE) {
-        insert(m, notBefore(m, key), key, value);
-      } else {
+      if (m.kind == Thing.TREE) {
+        insert(m, edge(m, key, false), key, value);
+        return;
+      }
+      if (m.kind == Thing.LINKED) {
         insert(m, m.size, key, value);
         if (m.cap > 0 && m.size > m.cap) {
           remove(m, 0);
         }
+        return;
       }
-    }
-
-    private void enterHash(Thing m, int key, int value) {
       if (m.table == 0) {
-        m.table = 1;
-        while (m.table < m.cap) {
-          m.table *= 2;
-        }
+        m.table = powerFrom(m.cap);
       }
       int bin = binOf(m, key);
       int end = binStart(m, bin + 1);
@@ -1725,6 +1724,15 @@ public final class LibraryDesk {
       if (m.size * 4 > m.table * 3) {
         doubleTable(m);
       }
+    }
+
+    /** The least power of 2 that is at least n and 1. */
+    private static int powerFrom(int n) {
+      int power = 1;
+      while (power < n && power < 1 << 30) {
+        power *= 2;
+      }
+      return power;
     }
 
     /** A BIN's keys go to the BIN of the same number or to that one a TABLE further. */
@@ -1748,14 +1756,12 @@ public final class LibraryDesk {
       System.arraycopy(laterVals, 0, m.vals, stay, go);
       for (int bin = 0; bin < old; bin++) {
         if (isBushy(m, bin)) {
-          setBushy(m, bin, binSize(m, bin) > 6);
-          setBushy(m, bin + old, binSize(m, bin + old) > 6);
+          int middle = binStart(m, bin + 1);
+          setBushy(m, bin, middle - binStart(m, bin) > 6);
+          int last = binStart(m, bin + old + 1);
+          setBushy(m, bin + old, last - binStart(m, bin + old) > 6);
         }
       }
-    }
-
-    private static int binSize(Thing m, int bin) {
-      return binStart(m, bin + 1) - binStart(m, bin);
     }
 
     private static boolean isBushy(Thing m, int bin) {
@@ -1777,8 +1783,9 @@ public final class LibraryDesk {
       System.arraycopy(m.vals, i + 1, m.vals, i, m.size - i - 1);
       m.size--;
       m.changes++;
-      if (m.kind == Thing.HASH && isBushy(m, binOf(m, key)) && binSize(m, binOf(m, key)) <= 6) {
-        setBushy(m, binOf(m, key), false);
+      if (m.kind == Thing.HASH && isBushy(m, binOf(m, key))) {
+        int bin = binOf(m, key);
+        setBushy(m, bin, binStart(m, bin + 1) - binStart(m, bin) > 6);
       }
     }
 
@@ -1793,7 +1800,7 @@ public final class LibraryDesk {
         m.changes++;
         Arrays.fill(m.longs, 0);
       }
-      return to - from;
+      return Math.max(to - from, 0);
     }
 
     /** A LINKED that goes by use: the key that was found goes to the end. */
@@ -1857,7 +1864,7 @@ public final class LibraryDesk {
       return value;
     }
 
-    private long raise(Thing t, int key, int by) {
+    long raise(Thing t, int key, int by) {
       Thing m = t.root;
       int i = find(t, key);
       if (i < 0) {
@@ -1901,17 +1908,16 @@ public final class LibraryDesk {
     private long nearest(Thing t, int op, int key) {
       Thing m = t.root;
       int how = isTurned(t) ? 31 - op : op;
-      int edge = how == 14 || how == 16 ? notBefore(m, key) : behind(m, key);
-      int i = how <= 15 ? Math.min(edge, limit(t)) - 1 : Math.max(edge, first(t));
+      int cut = edge(m, key, how == 15 || how == 17);
+      int i = how <= 15 ? Math.min(cut, limit(t)) - 1 : Math.max(cut, first(t));
       return i >= first(t) && i < limit(t) ? m.row[i] : Thing.NONE;
     }
 
     private long before(Thing t, int key) {
       int from = first(t);
       int to = limit(t);
-      int edge = isTurned(t) ? behind(t.root, key) : notBefore(t.root, key);
-      int cut = Math.min(Math.max(edge, from), to);
-      return isTurned(t) ? to - cut : cut - from;
+      int cut = Math.min(Math.max(edge(t.root, key, isTurned(t)), from), to);
+      return Math.max(isTurned(t) ? to - cut : cut - from, 0);
     }
 
     private long sum(Thing t) {
@@ -1945,7 +1951,7 @@ public final class LibraryDesk {
       return n;
     }
 
-    private long putAll(Thing t, Thing other) {
+    long putAll(Thing t, Thing other) {
       int n = sizeOf(other);
       keptKeys = Thing.grown(keptKeys, n);
       keptVals = Thing.grown(keptVals, n);
@@ -2430,19 +2436,15 @@ public final class LibraryDesk {
     int exchange(Matcher matcher, Thing pattern, Bytes t) {
       matcher.prepare(pattern, t, false, 0);
       built.size = 0;
-      int n = 0;
       int done = 0;
-      for (int from = 0; from <= t.size; ) {
-        int at = matcher.seek(from, t.size);
-        if (at < 0) {
-          break;
-        }
+      int n = 0;
+      int at = matcher.seek(0, t.size);
+      for (; n <= t.size && at >= 0; n++) {
         matcher.walk(at);
-        n++;
         built.addPart(t, done, at);
         addReplacement(matcher.found, t);
         done = matcher.found[1];
-        from = done > at ? done : at + 1;
+        at = matcher.seek(done > at ? done : at + 1, t.size);
       }
       built.addPart(t, done, t.size);
       needRoom(built.size);
@@ -2484,12 +2486,11 @@ public final class LibraryDesk {
       width = 0;
       cut = -1;
       int p = i + 1;
-      for (int f = flagAt(p); f >= 0; f = flagAt(p)) {
-        if ((flags >> f & 1) != 0) {
+      for (; p < taken.size && flagAt(p) >= 0; p++) {
+        if ((flags >> flagAt(p) & 1) != 0) {
           taken.broken(p);
         }
-        flags |= 1 << f;
-        p++;
+        flags |= 1 << flagAt(p);
       }
       if (taken.get(p) >= '1' && taken.get(p) <= '9') {
         width = taken.get(p++) - '0';
@@ -2536,7 +2537,7 @@ public final class LibraryDesk {
 
     void checkFields() {
       int i = 0;
-      while (i < taken.size) {
+      for (int n = 0; n < Bytes.MOST && i < taken.size; n++) {
         i = taken.get(i) == '%' ? readField(i) : i + 1;
       }
     }
@@ -2546,7 +2547,7 @@ public final class LibraryDesk {
       built.size = 0;
       int used = 0;
       int i = 0;
-      while (i < taken.size) {
+      for (int n = 0; n < Bytes.MOST && i < taken.size; n++) {
         if (taken.get(i) != '%') {
           needOut(built.size + 1);
           built.add(taken.get(i++));
@@ -2612,7 +2613,7 @@ public final class LibraryDesk {
       }
       int first = field.size;
       long rest = Math.abs((long) v);
-      for (int n = 0; n == 0 || rest > 0; n++) {
+      for (int n = 0; n < 10 && (n == 0 || rest > 0); n++) {
         if (n > 0 && n % 3 == 0 && (flags & COMMA) != 0) {
           field.add(',');
         }
@@ -2624,7 +2625,7 @@ public final class LibraryDesk {
 
     private void fillUnsigned(int v, int bits) {
       int rest = v;
-      for (int n = 0; n == 0 || rest != 0; n++) {
+      for (int n = 0; n < 32 && (n == 0 || rest != 0); n++) {
         int digit = rest & (1 << bits) - 1;
         field.add(digit < 10 ? digit + '0' : digit - 10 + 'a');
         rest >>>= bits;
@@ -2784,7 +2785,8 @@ public final class LibraryDesk {
     private int readAlt(int deep) {
       int node = add(ALT, 0);
       int last = -1;
-      for (boolean more = true; more; ) {
+      boolean more = true;
+      for (int n = 0; n <= MOST_BYTES && more; n++) {
         int seq = readSeq(deep);
         weighMore(node, weight[seq]);
         if (last < 0) {
@@ -2805,7 +2807,7 @@ public final class LibraryDesk {
     private int readSeq(int deep) {
       int node = add(SEQ, 0);
       int last = -1;
-      for (int b = byteAt(in.at); b != -1 && b != '|' && b != ')'; b = byteAt(in.at)) {
+      for (int n = 0; n <= MOST_BYTES && !isSeqOver(); n++) {
         int part = readPart(deep);
         weighMore(node, weight[part]);
         if (last < 0) {
@@ -2816,6 +2818,11 @@ public final class LibraryDesk {
         last = part;
       }
       return node;
+    }
+
+    private boolean isSeqOver() {
+      int b = byteAt(in.at);
+      return b == -1 || b == '|' || b == ')';
     }
 
     /** An ATOM with what stands behind it. */
@@ -2874,12 +2881,11 @@ public final class LibraryDesk {
     private int readNumber(int least) {
       int first = in.at;
       int v = 0;
-      for (int b = byteAt(in.at); b >= '0' && b <= '9'; b = byteAt(in.at)) {
+      for (; byteAt(in.at) >= '0' && byteAt(in.at) <= '9'; in.at++) {
         if (in.at > first && v == 0) {
           in.broken(in.at);
         }
-        v = Math.min(v * 10 + b - '0', MOST_TIMES + 1);
-        in.at++;
+        v = Math.min(v * 10 + byteAt(in.at) - '0', MOST_TIMES + 1);
       }
       if (in.at == first || v > MOST_TIMES || v < least) {
         in.broken(first);
@@ -2983,8 +2989,8 @@ public final class LibraryDesk {
         in.at++;
       }
       int set = setCount++;
-      boolean any = false;
-      for (int b = byteAt(in.at); b != ']' || !any; b = byteAt(in.at)) {
+      for (int n = 0; n <= MOST_BYTES && (n == 0 || byteAt(in.at) != ']'); n++) {
+        int b = byteAt(in.at);
         if (b < 0 || b == ']') {
           in.broken(in.at);
         }
@@ -2993,7 +2999,6 @@ public final class LibraryDesk {
         } else {
           readRange(set, b);
         }
-        any = true;
       }
       in.at++;
       if (not) {
@@ -3413,7 +3418,7 @@ public final class LibraryDesk {
     }
 
     void become(long v) {
-      sign = Long.signum(v);
+      sign = Long.compare(v, 0);
       long size = v < 0 ? -v : v;
       len = 2;
       mag[0] = (int) size;
@@ -3460,8 +3465,17 @@ public final class LibraryDesk {
       return zerosBelow ? (int) -limb(i) : (int) ~limb(i);
     }
 
+    /** How many bits 0 are above the highest bit 1 of a limb that is not 0. */
+    private static int zerosAbove(int limb) {
+      int n = 0;
+      while (n < 31 && limb << n >= 0) {
+        n++;
+      }
+      return n;
+    }
+
     int bits() {
-      return len == 0 ? 0 : 32 * len - Integer.numberOfLeadingZeros(mag[len - 1]);
+      return len == 0 ? 0 : 32 * len - zerosAbove(mag[len - 1]);
     }
 
     boolean bit(int i) {
@@ -3474,7 +3488,11 @@ public final class LibraryDesk {
       while (i < len && mag[i] == 0) {
         i++;
       }
-      return i < len ? 32 * i + Integer.numberOfTrailingZeros(mag[i]) : 0;
+      int bit = 0;
+      while (i < len && bit < 31 && (mag[i] >>> bit & 1) == 0) {
+        bit++;
+      }
+      return i < len ? 32 * i + bit : 0;
     }
 
     static int compareSizes(Big p, Big q) {
@@ -3617,30 +3635,20 @@ public final class LibraryDesk {
       return v;
     }
 
-    /** p times 2^n in size, rounded down in size; this may be p. */
+    /** p times 2^n in size, rounded down in size; this may be p, so no limb is written before it is read. */
     void shift(Big p, int n) {
       int s = p.sign;
       int far = n >> 5;
       int turn = n & 31;
       int limbs = Math.max(p.len + far + 1, 0);
       needRoom(limbs);
-      if (far >= 0) {
-        for (int i = limbs - 1; i >= 0; i--) {
-          mag[i] = p.shifted(i - far, turn);
-        }
-      } else {
-        for (int i = 0; i < limbs; i++) {
-          mag[i] = p.shifted(i - far, turn);
-        }
+      for (int done = 0; done < limbs; done++) {
+        int i = far >= 0 ? limbs - 1 - done : done;
+        mag[i] = (int) (p.limb(i - far) << turn | p.limb(i - far - 1) << turn >>> 32);
       }
       len = limbs;
       sign = s;
       trim();
-    }
-
-    /** Limb i of this times 2^turn, turn 0 .. 31. */
-    private int shifted(int i, int turn) {
-      return (int) (limb(i) << turn | limb(i - 1) << turn >>> 32);
     }
 
     /**
@@ -3655,7 +3663,7 @@ public final class LibraryDesk {
         quotient.become(0);
         return;
       }
-      int turn = Integer.numberOfLeadingZeros(q.mag[n - 1]);
+      int turn = zerosAbove(q.mag[n - 1]);
       int m = p.len - n;
       norm.shift(q, turn);
       rest.shift(p, turn);
@@ -4000,6 +4008,7 @@ public final class LibraryDesk {
     int makeDecimal(Thing o, int op, Thing p, Thing q, int n) {
       int scale = n / 8;
       int mode = Math.floorMod(n, 8);
+      one.become(1);
       switch (op) {
         case 0:
         case 1:
@@ -4019,7 +4028,12 @@ public final class LibraryDesk {
           break;
         case 5:
           made.copy(p.num);
-          scale = p.value - shorten(n / 8, mode);
+          scale = p.value;
+          for (int turn = 0; turn < 3; turn++) {
+            int more = Math.max(digits(made) - n / 8, 0);
+            scaleBy(-more, mode);
+            scale -= more;
+          }
           break;
         case 6:
           scale = strip(p);
@@ -4070,16 +4084,11 @@ public final class LibraryDesk {
         rest.shift(rest, 1);
         if (isAway(mode, sign, Big.compareSizes(rest, second))) {
           made.sign = made.len == 0 ? 0 : 1;
-          made.add(made, one(), 1);
+          made.add(made, one, 1);
           made.sign = sign;
         }
       }
       made.sign = made.len == 0 ? 0 : made.sign;
-    }
-
-    private Big one() {
-      one.become(1);
-      return one;
     }
 
     /** Half tells how what is left stands to a half of what divides. */
@@ -4101,20 +4110,6 @@ public final class LibraryDesk {
         default:
           return half > 0 || half == 0 && made.bit(0);
       }
-    }
-
-    /** The number made gets at most so many digits; answers how many went. */
-    private int shorten(int most, int mode) {
-      int gone = 0;
-      for (int n = 0; n < 3; n++) {
-        int more = digits(made) - most;
-        if (more <= 0) {
-          break;
-        }
-        scaleBy(-more, mode);
-        gone += more;
-      }
-      return gone;
     }
 
     /** The number made is p without 0s at its end; answers the SCALE of that. */
@@ -4196,7 +4191,7 @@ public final class LibraryDesk {
       made.copy(t.num);
       made.raiseTens(Math.max(-scale, 0));
       built.size = 0;
-      for (int n = 0; n <= Math.max(scale, 0) || made.len > 0; n++) {
+      for (int n = 0; n < 32 * LIMBS && (n <= scale || n == 0 || made.len > 0); n++) {
         if (scale > 0 && n == scale) {
           built.add('.');
         }
@@ -4265,7 +4260,7 @@ public final class LibraryDesk {
     private final int[][] kept = new int[MOST_STAGES + 2][16];
     private int[] spare = new int[0];
     private int end;
-    private Thing source;
+    private int sourceSize;
     /** What END makes, until it is known that it comes to be there. */
     private Thing bundle = new Thing();
     /** The ELEMENT that goes through. */
@@ -4400,17 +4395,26 @@ public final class LibraryDesk {
       }
     }
 
-    void findSource() {
-      source = null;
+    /** What a SOURCE that is an OBJECT has is kept; nothing changes it as long as the STREAM runs. */
+    void keepSource() {
+      sourceSize = 0;
       if (kind[0] < OF_LIST || kind[0] > OF_VALUES) {
         return;
       }
-      source = Thing.find(shelf, arg[0]);
+      Thing source = Thing.find(shelf, arg[0]);
       if (kind[0] == OF_LIST) {
         source.needRow();
         source.needFresh();
-      } else {
-        source.needMap();
+        sourceSize = source.size;
+        System.arraycopy(source.root.row, source.at, keptRow(0, sourceSize), 0, sourceSize);
+        return;
+      }
+      source.needMap();
+      sourceSize = maps.sizeOf(source);
+      int[] from = kind[0] == OF_KEYS ? source.root.row : source.root.vals;
+      int[] row = keptRow(0, sourceSize);
+      for (int i = 0; i < sourceSize; i++) {
+        row[i] = from[maps.placeOf(source, i)];
       }
     }
 
@@ -4444,16 +4448,14 @@ public final class LibraryDesk {
 
     private static int rest(int v, int by) {
       if (by == 0) {
-        refuse();
-        return 0;
+        throw new ArithmeticException();
       }
       return v % by;
     }
 
     private static int quotient(int v, int by) {
       if (by == 0) {
-        refuse();
-        return 0;
+        throw new ArithmeticException();
       }
       return v / by;
     }
@@ -4555,17 +4557,13 @@ public final class LibraryDesk {
       if (kind[0] == RANGE) {
         there = held[0] < arg[0];
         x = there ? held[0]++ : 0;
-      } else if (source == null) {
+      } else if (kind[0] <= OF_VALUES) {
+        there = sourced < sourceSize;
+        x = there ? keptRow(0, sourceSize)[sourced] : 0;
+      } else {
         there = true;
         held[0] = sourced > 0 ? change(0, held[0]) : held[0];
         x = held[0];
-      } else if (kind[0] == OF_LIST) {
-        there = sourced < source.size;
-        x = there ? source.root.row[source.at + sourced] : 0;
-      } else {
-        there = sourced < maps.sizeOf(source);
-        int at = there ? maps.placeOf(source, sourced) : 0;
-        x = !there ? 0 : kind[0] == OF_KEYS ? source.root.row[at] : source.root.vals[at];
       }
       if (there && ++sourced > MOST_OF_SOURCE) {
         refuse();
@@ -4718,7 +4716,7 @@ public final class LibraryDesk {
           if (maps.find(bundle, key) < 0) {
             needKept(bundle.size, Maps.MOST);
           }
-          maps.answer(bundle, 8, key, 1, bundle);
+          maps.raise(bundle, key, 1);
         }
       }
       if (list && bundle.size > 0) {
@@ -4952,7 +4950,8 @@ public final class LibraryDesk {
     // steps
 
     int act(int t) {
-      int i = 4 * at[t];
+      int before = at[t];
+      int i = 4 * before;
       if (state[t] != READY || i < 0 || i >= code[t].length) {
         return state[t];
       }
@@ -4960,12 +4959,41 @@ public final class LibraryDesk {
       int o = code[t][i + 1];
       if (row[t] != 0) {
         claim(t);
-      } else if (word <= END) {
-        actAlone(t, word, code[t][i + 1]);
-      } else if (o < 0 || o >= shelf.length || shelf[o].kind != kindFor(word)) {
+        return state[t];
+      }
+      if (word <= END) {
+        actAlone(t, word, o);
+        return state[t];
+      }
+      if (o < 0 || o >= shelf.length || shelf[o].kind != kindFor(word)) {
         fail(t, 2);
-      } else {
-        actOn(t, word, o, shelf[o]);
+        return state[t];
+      }
+      switch (shelf[o].kind) {
+        case Thing.LOCK:
+          actOnLock(t, word, o, shelf[o]);
+          break;
+        case Thing.CELL:
+          actOnCell(t, word, shelf[o]);
+          break;
+        case Thing.SEMAPHORE:
+          actOnSemaphore(t, word, o, shelf[o]);
+          break;
+        case Thing.LATCH:
+          actOnLatch(t, word, o, shelf[o]);
+          break;
+        case Thing.BARRIER:
+          actOnBarrier(t, o, shelf[o]);
+          break;
+        case Thing.QUEUE:
+          actOnQueue(t, word, o, shelf[o]);
+          break;
+        default:
+          actOnFuture(t, word, o, shelf[o]);
+          break;
+      }
+      if (state[t] == READY && at[t] == before) {
+        goTo(t, before + 1);
       }
       return state[t];
     }
@@ -5011,36 +5039,6 @@ public final class LibraryDesk {
           break;
       }
       goTo(t, next);
-    }
-
-    private void actOn(int t, int word, int o, Thing thing) {
-      int before = at[t];
-      switch (thing.kind) {
-        case Thing.LOCK:
-          actOnLock(t, word, o, thing);
-          break;
-        case Thing.CELL:
-          actOnCell(t, word, thing);
-          break;
-        case Thing.SEMAPHORE:
-          actOnSemaphore(t, word, o, thing);
-          break;
-        case Thing.LATCH:
-          actOnLatch(t, word, o, thing);
-          break;
-        case Thing.BARRIER:
-          actOnBarrier(t, o, thing);
-          break;
-        case Thing.QUEUE:
-          actOnQueue(t, word, o, thing);
-          break;
-        default:
-          actOnFuture(t, word, o, thing);
-          break;
-      }
-      if (state[t] == READY && at[t] == before) {
-        goTo(t, before + 1);
-      }
     }
 
     private void actOnLock(int t, int word, int o, Thing lock) {
@@ -5251,26 +5249,23 @@ public final class LibraryDesk {
 
     // what the caller does
 
-    int actByTurns(int s, int n) {
-      int seed = s;
-      for (int done = 0; done < n; done++) {
-        int ready = 0;
-        for (int t = 0; t < MOST; t++) {
-          ready += state[t] == READY ? 1 : 0;
-        }
-        if (ready == 0) {
-          return done;
-        }
-        seed = Rows.nextSeed(seed);
-        int left = Rows.drawn(seed, ready);
-        for (int t = 0; t < MOST; t++) {
-          if (state[t] == READY && left-- == 0) {
-            act(t);
-            break;
-          }
-        }
+    int howManyReady() {
+      int n = 0;
+      for (int t = 0; t < MOST; t++) {
+        n += state[t] == READY ? 1 : 0;
       }
       return n;
+    }
+
+    /** The READY one before which so many others are READY. */
+    int readyOne(int others) {
+      int left = others;
+      for (int t = 0; t < MOST; t++) {
+        if (state[t] == READY && left-- == 0) {
+          return t;
+        }
+      }
+      return 0;
     }
 
     int pass(int n) {
