@@ -3474,7 +3474,7 @@ public final class LibraryDesk {
       return n;
     }
 
-    int bits() {
+    int bitLength() {
       return len == 0 ? 0 : 32 * len - zerosAbove(mag[len - 1]);
     }
 
@@ -3805,7 +3805,7 @@ public final class LibraryDesk {
           joinBits(op, p, q);
           break;
       }
-      needBits(made.bits());
+      needBits(made.bitLength());
       o.copy(made);
       return o.sign;
     }
@@ -3850,7 +3850,7 @@ public final class LibraryDesk {
 
     /** The value of a WHOLE, if it is in a range. */
     private static int small(Big q, int least, int most) {
-      need(q.bits() <= 31);
+      need(q.bitLength() <= 31);
       long v = q.sign * q.limb(0);
       need(v >= least && v <= most);
       return (int) v;
@@ -3860,13 +3860,13 @@ public final class LibraryDesk {
     private void power(Big p, Big q) {
       int times = small(q, 0, MOST_TIMES);
       made.become(1);
-      for (int i = q.bits() - 1; i >= 0 && times > 0; i--) {
+      for (int i = q.bitLength() - 1; i >= 0 && times > 0; i--) {
         second.multiply(made, made);
-        needBits(second.bits());
+        needBits(second.bitLength());
         made.copy(second);
         if (q.bit(i)) {
           second.multiply(made, p);
-          needBits(second.bits());
+          needBits(second.bitLength());
           made.copy(second);
         }
       }
@@ -3877,7 +3877,7 @@ public final class LibraryDesk {
       share(5, p, mod);
       fourth.copy(made);
       share(5, one, mod);
-      for (int i = q.bits() - 1; i >= 0; i--) {
+      for (int i = q.bitLength() - 1; i >= 0; i--) {
         multiplyMod(made, mod);
         if (q.bit(i)) {
           multiplyMod(fourth, mod);
@@ -3900,7 +3900,7 @@ public final class LibraryDesk {
         return;
       }
       made.become(1);
-      made.shift(made, (p.bits() + 1) / 2);
+      made.shift(made, (p.bitLength() + 1) / 2);
       for (int n = 0; n < MOST_BITS; n++) {
         Big.divide(p, made, second, rest, norm);
         second.add(second, made, 1);
@@ -3918,7 +3918,7 @@ public final class LibraryDesk {
         made.become(0);
         return;
       }
-      needBits((long) p.bits() + n);
+      needBits((long) p.bitLength() + n);
       boolean lost = n < 0 && p.zerosAtEnd() < -n;
       made.shift(p, n);
       if (p.sign < 0 && lost) {
@@ -3950,7 +3950,7 @@ public final class LibraryDesk {
         case 0:
           return t.sign;
         case 1:
-          return t.sign < 0 && t.zerosAtEnd() == t.bits() - 1 ? t.bits() - 1 : t.bits();
+          return t.sign < 0 && t.zerosAtEnd() == t.bitLength() - 1 ? t.bitLength() - 1 : t.bitLength();
         case 2:
           return (long) t.limbWithSign(1) << 32 | t.limbWithSign(0) & 0xFFFFFFFFL;
         case 3:
@@ -3958,7 +3958,7 @@ public final class LibraryDesk {
         case 4:
           return t.sign == 0 ? -1 : t.zerosAtEnd();
         default:
-          return t.sign > 0 && t.bits() <= 31 && isPrime(t.limb(0)) ? 1 : 0;
+          return t.sign > 0 && t.bitLength() <= 31 && isPrime(t.limb(0)) ? 1 : 0;
       }
     }
 
@@ -4154,7 +4154,7 @@ public final class LibraryDesk {
         made.multiplySmall(radix, digitAt(k, radix));
       }
       made.sign *= first == 1 ? -1 : 1;
-      needBits(made.bits());
+      needBits(made.bitLength());
       o.copy(made);
       return taken.size;
     }

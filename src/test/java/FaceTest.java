@@ -5,13 +5,16 @@ public final class FaceTest {
   private static Random r;
 
   public static void main(String[] args) {
-    for (int seed = 0; seed < 4000; seed++) {
+    int games = args.length > 0 ? Integer.parseInt(args[0]) : 3000;
+    for (int seed = 0; seed < games; seed++) {
       r = new Random(seed);
       LibraryDesk x = new LibraryDesk();
+      LibraryDesk twin = new LibraryDesk();
       int most = 1 + r.nextInt(24);
       for (int i = 0; i < 512; i++) {
-        call(x, most);
+        call(x, twin, most);
       }
+      Check.same("all", all(x), all(twin));
     }
     faces();
     Check.end("FaceTest");
@@ -34,125 +37,191 @@ public final class FaceTest {
       "iterate 1 * 3 | limit 20 | copies 2 | list", "(a|b)*c", "a*?b+", "(?=a(b)?)a*+", "[^a-c\\d]+|.", "(\\w+)\\s*$", "lock 0; wait 0; unlock 0", "put 1; take 1; jump 0",
       "add 1; sleep 2; jump 0", "acquire 2 1; release 2 1", "%d%5x%-6s|", "%c%b%,d%%", "12345678901234567890", "-3.25", "zz9", "QUJD", "abcabc", "", "$1x$0", "aab", "-"};
 
-  private static void tape(LibraryDesk x) {
+  private static String tape() {
     StringBuilder b = new StringBuilder(TAPES[r.nextInt(TAPES.length)]);
     if (r.nextInt(3) == 0 && b.length() > 0) {
       b.setCharAt(r.nextInt(b.length()), (char) (r.nextInt(4) == 0 ? r.nextInt(256) : 32 + r.nextInt(95)));
     }
-    Check.tape(x, b.toString());
+    return b.toString();
   }
 
   private static int number(int most) {
     return r.nextInt(10) == 0 ? any(30) : r.nextInt(most);
   }
 
-  private static void call(LibraryDesk x, int most) {
+  private interface On {
+    long go(LibraryDesk x);
+  }
+
+  private static boolean reads;
+
+  private static final String KNOWN = " NoSuchElementException ClassCastException IllegalArgumentException IllegalStateException "
+      + "UnsupportedOperationException IndexOutOfBoundsException ArithmeticException NegativeArraySizeException ";
+
+  /** The twin gets the calls alone that answer; what it tells in the end must be the same. */
+  private static void call(LibraryDesk x, LibraryDesk twin, int most) {
     int o = number(most);
     int p = number(most);
     int a = any(r.nextBoolean() ? 6 : 50);
     int b = any(r.nextBoolean() ? 6 : most);
     if (r.nextInt(3) == 0) {
-      tape(x);
+      String tape = tape();
+      Check.tape(x, tape);
+      Check.tape(twin, tape);
     }
-    Check.Call c = first(x, o, p, a, b);
-    String of = Check.of(c);
-    if (of.startsWith("throws.") && !" NoSuchElementException ClassCastException IllegalArgumentException IllegalStateException UnsupportedOperationException IndexOutOfBoundsException ArithmeticException NegativeArraySizeException "
-        .contains(" " + of.substring(7) + " ")) {
+    reads = false;
+    On c = r.nextInt(30) < 24 ? first(o, p, a, b) : second(o, p, a, b);
+    String of = Check.of(() -> c.go(x));
+    if (!of.startsWith("throws.")) {
+      Check.same("the twin", Check.of(() -> c.go(twin)), of);
+    } else if (!KNOWN.contains(" " + of.substring(7) + " ")) {
       Check.fail("a call answered " + of);
+    } else if (reads) {
+      twin.end(0);
+    }
+    if (reads && x.count(0) != 0) {
+      Check.fail("THE TAPE is not empty");
     }
   }
 
-  private static Check.Call first(LibraryDesk x, int o, int p, int a, int b) {
-    switch (r.nextInt(30)) {
+  private static String all(LibraryDesk x) {
+    StringBuilder b = new StringBuilder();
+    for (int what : new int[] {0, 1, 2, 4, 5}) {
+      b.append(x.count(what)).append(' ');
+    }
+    b.append(Check.out(x));
+    for (int i = 0; i < 20; i++) {
+      b.append(x.group(i / 2, i % 2)).append(' ');
+    }
+    for (int i = 0; i < 48; i++) {
+      b.append(x.look(i / 6, i % 6)).append(' ');
+    }
+    for (int i = 0; i < 24; i++) {
+      int o = i;
+      b.append("\n").append(x.count(10 + o)).append(": ");
+      for (int op : new int[] {24, 25, 27}) {
+        b.append(Check.of(() -> x.list(o, op, 0, 0))).append(' ');
+      }
+      for (int op : new int[] {4, 18, 21, 22}) {
+        b.append(Check.of(() -> x.map(o, op, 0, 0))).append(' ');
+      }
+      for (int k = 0; k < 4; k++) {
+        int at = k;
+        b.append(Check.of(() -> x.item(o, at, 0))).append(' ').append(Check.of(() -> x.item(o, at, 1))).append(' ');
+        b.append(Check.of(() -> x.sync(o, at))).append(' ').append(Check.of(() -> x.move(o, 2 * at, 0))).append(' ');
+      }
+      b.append(Check.of(() -> x.ring(o, 14, 0))).append(' ').append(Check.of(() -> x.ring(o, 7, 0))).append(' ');
+      b.append(Check.of(() -> x.heap(o, 5, 0))).append(' ').append(Check.of(() -> x.heap(o, 1, 0))).append(' ');
+      b.append(Check.of(() -> x.heap(o, 4, 0))).append(' ').append(Check.of(() -> x.bits(o, 11, 0, 0))).append(' ');
+      b.append(Check.of(() -> x.bits(o, 19, 0, 0))).append(' ').append(Check.of(() -> x.text(o, 18, 0, 0))).append(' ');
+      b.append(Check.of(() -> x.show(o, 10))).append(' ').append(Check.of(() -> x.tell(o, 6))).append(' ');
+      b.append(Check.out(x));
+    }
+    return b.toString();
+  }
+
+  private static On first(int o, int p, int a, int b) {
+    boolean coin = r.nextBoolean();
+    switch (r.nextInt(24)) {
       case 0:
       case 1:
         int kind = number(20);
-        return () -> x.make(kind, a, b);
+        return x -> x.make(kind, a, b);
       case 2:
         int d = r.nextInt(3);
-        return () -> d == 0 ? x.drop(o) : x.count(a);
+        return x -> d == 0 ? x.drop(o) : a == 3 ? 0 : x.count(a);
       case 3:
       case 4:
       case 5:
         int l = number(31);
-        return () -> x.list(o, l, a, b);
+        return x -> x.list(o, l, a, b);
       case 6:
         int g = number(15);
-        return () -> x.ring(o, g, a);
+        return x -> x.ring(o, g, a);
       case 7:
       case 8:
       case 9:
         int m = number(24);
-        return () -> x.map(o, m, a, b);
+        return x -> x.map(o, m, a, b);
       case 10:
         int v = number(5);
-        return () -> x.view(o, v, a, b);
+        return x -> x.view(o, v, a, b);
       case 11:
-        return () -> x.cursor(o);
+        return x -> x.cursor(o);
       case 12:
         int mv = number(9);
-        return () -> x.move(o, mv, a);
+        return x -> x.move(o, mv, a);
       case 13:
         int h = number(8);
-        return () -> x.heap(o, h, a);
+        return x -> x.heap(o, h, a);
       case 14:
         int bi = number(20);
-        return () -> x.bits(o, bi, a, b);
+        return x -> x.bits(o, bi, a, b);
       case 15:
         int part = number(2);
-        return () -> x.item(o, a, part);
+        return x -> x.item(o, a, part);
       case 16:
       case 17:
         int t = number(21);
-        return () -> x.text(o, t, a, b);
+        reads = t == 0 || t == 1 || t == 3 || t == 7 || t == 8 || t == 20;
+        return x -> x.text(o, t, a, b);
       case 18:
-        return () -> x.pattern();
+        reads = true;
+        return x -> x.pattern();
       case 19:
         int how = number(3);
-        return () -> x.match(o, p, how, a);
+        return x -> x.match(o, p, how, a);
       case 20:
-        return () -> r.nextBoolean() ? x.group(a, b) : x.replace(o, p);
+        reads = !coin;
+        return x -> coin ? x.group(a, b) : x.replace(o, p);
       case 21:
-        return () -> r.nextBoolean() ? x.form(o) : x.set(o, r.nextLong());
+        long value = r.nextLong() >> r.nextInt(64);
+        reads = coin;
+        return x -> coin ? x.form(o) : x.set(o, value);
       case 22:
         int w = number(14);
-        return () -> x.whole(o, w, p, a);
-      case 23:
-        int de = number(8);
-        return () -> x.decimal(o, de, p, p, r.nextBoolean() ? a : 8 * a + b);
+        return x -> x.whole(o, w, p, a);
       default:
-        return second(x, o, p, a, b);
+        int de = number(8);
+        return x -> x.decimal(o, de, p, p, coin ? a : 8 * a + b);
     }
   }
 
-  private static Check.Call second(LibraryDesk x, int o, int p, int a, int b) {
+  private static On second(int o, int p, int a, int b) {
+    boolean coin = r.nextBoolean();
+    int eight = number(8);
+    int six = number(6);
+    int four = number(4);
     switch (r.nextInt(14)) {
       case 0:
-        return () -> x.tell(o, a);
+        return x -> x.tell(o, a);
       case 1:
-        return () -> x.order(o, p);
+        return x -> x.order(o, p);
       case 2:
-        return () -> x.read(o, r.nextBoolean() ? 10 : a);
+        reads = true;
+        return x -> x.read(o, coin ? 10 : a);
       case 3:
-        return () -> x.show(o, r.nextBoolean() ? 10 : a);
+        return x -> x.show(o, coin ? 10 : a);
       case 4:
-        return () -> x.stream();
+        reads = true;
+        return x -> x.stream();
       case 5:
       case 6:
-        return () -> x.thread();
+        reads = true;
+        return x -> x.thread();
       case 7:
       case 8:
-        return () -> x.step(number(8));
+        return x -> x.step(eight);
       case 9:
-        return () -> r.nextInt(3) == 0 ? x.run(a, b) : x.tick(a);
+        return x -> six < 3 ? x.run(a, b) : x.tick(a);
       case 10:
-        return () -> r.nextBoolean() ? x.interrupt(number(8)) : x.look(number(8), number(6));
+        return x -> coin ? x.interrupt(eight) : x.look(eight, six);
       case 11:
-        return () -> x.dead() + x.sync(o, number(5));
+        return x -> x.dead() + x.sync(o, four);
       case 12:
-        return () -> r.nextBoolean() ? x.date(a, b, number(30)) : x.part(a, number(9));
+        return x -> coin ? x.date(a, six, eight) : x.part(a, eight);
       default:
-        return () -> r.nextInt(3) == 0 ? x.word(a) : r.nextBoolean() ? x.plus(a, number(4), b) : x.between(a, b, number(4));
+        return x -> six < 2 ? x.word(a) : coin ? x.plus(a, four, b) : x.between(a, b, four);
     }
   }
 
