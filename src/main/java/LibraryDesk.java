@@ -4712,7 +4712,7 @@ public final class LibraryDesk {
           bundle.room(bundle.size + 1);
           bundle.row[bundle.size++] = x;
         } else {
-          int key = Math.floorMod(x, arg[end]);
+          int key = Math.floorMod(x, Math.max(arg[end], 1));
           if (maps.find(bundle, key) < 0) {
             needKept(bundle.size, Maps.MOST);
           }

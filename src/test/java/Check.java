@@ -1,5 +1,3 @@
-import java.util.NoSuchElementException;
-
 /** What all tests use: calls with the answer or the exception that is due, THE TAPE and OUT as texts. */
 final class Check {
   static final long NONE = 1L << 40;
@@ -139,13 +137,5 @@ final class Check {
       System.exit(1);
     }
     System.out.println(name + ": " + calls + " calls as due");
-  }
-
-  /** Only so that the exceptions that may come are told in one place. */
-  static boolean isKnown(RuntimeException e) {
-    return e instanceof NoSuchElementException || e instanceof ClassCastException
-        || e instanceof IllegalArgumentException || e instanceof IllegalStateException
-        || e instanceof UnsupportedOperationException || e instanceof IndexOutOfBoundsException
-        || e instanceof ArithmeticException || e instanceof NegativeArraySizeException;
   }
 }
