@@ -4,6 +4,11 @@ final class Check {
   static int wrong = 0;
   private static int calls = 0;
 
+  /** Seeds that are near one another would begin with the same numbers otherwise. */
+  static java.util.Random random(long seed) {
+    return new java.util.Random((seed + 1) * 0x9E3779B97F4A7C15L);
+  }
+
   interface Call {
     long go();
   }

@@ -19,7 +19,7 @@ public final class DayTest {
         }
       }
     }
-    Random r = new Random(5);
+    Random r = Check.random(5);
     for (int i = 0; i < 40000; i++) {
       int day = FIRST + r.nextInt(LAST - FIRST + 1);
       if (i % 3 == 0) {

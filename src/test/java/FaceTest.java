@@ -7,7 +7,7 @@ public final class FaceTest {
   public static void main(String[] args) {
     int games = args.length > 0 ? Integer.parseInt(args[0]) : 3000;
     for (int seed = 0; seed < games; seed++) {
-      r = new Random(seed);
+      r = Check.random(seed);
       LibraryDesk x = new LibraryDesk();
       LibraryDesk twin = new LibraryDesk();
       int most = 1 + r.nextInt(24);

@@ -4,7 +4,7 @@ import java.util.Random;
 /** Promise 11 (form), beside String.format where that says the same. */
 public final class FormTest {
   public static void main(String[] args) {
-    Random r = new Random(1);
+    Random r = Check.random(1);
     for (int i = 0; i < 4000; i++) {
       play(r);
     }

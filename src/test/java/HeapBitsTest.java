@@ -7,8 +7,8 @@ import java.util.Random;
 public final class HeapBitsTest {
   public static void main(String[] args) {
     for (int seed = 0; seed < 500; seed++) {
-      heaps(new Random(seed));
-      bits(new Random(seed));
+      heaps(Check.random(seed));
+      bits(Check.random(seed));
     }
     heapEdges();
     bitEdges();

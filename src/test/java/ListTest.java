@@ -53,7 +53,7 @@ public final class ListTest {
 
   public static void main(String[] args) {
     for (int seed = 0; seed < 3000; seed++) {
-      play(new Random(seed));
+      play(Check.random(seed));
     }
     capacities();
     edges();
@@ -527,7 +527,7 @@ public final class ListTest {
   }
 
   private static void rings() {
-    Random r = new Random(9);
+    Random r = Check.random(9);
     for (int game = 0; game < 400; game++) {
       LibraryDesk x = new LibraryDesk();
       int a0 = r.nextInt(30);

@@ -170,10 +170,13 @@ public final class MapTest {
 
   public static void main(String[] args) {
     for (int seed = 0; seed < 2500; seed++) {
-      play(new Random(seed));
+      play(Check.random(seed));
     }
     for (int rule = 0; rule < 4; rule++) {
       great(rule);
+    }
+    for (int seed = 0; seed < 400; seed++) {
+      bushySplits(Check.random(seed));
     }
     fullMaps();
     words();
@@ -483,7 +486,7 @@ public final class MapTest {
     LibraryDesk x = new LibraryDesk();
     things.clear();
     make(x, 2, rule * 3, rule);
-    Random r = new Random(rule);
+    Random r = Check.random(rule);
     for (int i = 0; i < 3000; i++) {
       int key = r.nextInt(4) == 0 ? r.nextInt(1200) : i;
       int op = r.nextInt(3) == 0 ? 2 : 0;
@@ -493,6 +496,23 @@ public final class MapTest {
     }
     compare(x);
     Check.same("5", Check.of(() -> x.map(0, 5, 0, 0)), Check.of(() -> mapped(0, 5, 0, 0)));
+    compare(x);
+  }
+
+  /** BINS that are BUSHY fall apart in every way when the TABLE is doubled, and by keys that go. */
+  private static void bushySplits(Random r) {
+    LibraryDesk x = new LibraryDesk();
+    things.clear();
+    make(x, 2, 33 + r.nextInt(32), r.nextInt(2) * 3);
+    int stride = 64 << r.nextInt(3);
+    int odds = 1 + r.nextInt(4);
+    for (int i = 0; i < 160; i++) {
+      int key = r.nextInt(odds + 1) == 0 ? r.nextInt(400) : r.nextInt(24) * stride + r.nextInt(2);
+      int op = r.nextInt(5) == 0 ? 2 : 0;
+      Check.same("map", Check.of(() -> x.map(0, op, key, key)), Check.of(() -> mapped(0, op, key, key)));
+      Check.due("BUSHY", () -> x.map(0, 22, 0, 0), things.get(0).m.bushy.stream().filter(v -> v).count());
+      Check.due("TABLE", () -> x.map(0, 21, 0, 0), things.get(0).m.table);
+    }
     compare(x);
   }
 

@@ -83,7 +83,7 @@ public final class NumberTest {
   }
 
   private static void wholes() {
-    Random r = new Random(2);
+    Random r = Check.random(2);
     for (int i = 0; i < 12000; i++) {
       LibraryDesk x = new LibraryDesk();
       BigInteger[] v = {draw(r), draw(r), draw(r)};
@@ -284,7 +284,7 @@ public final class NumberTest {
   }
 
   private static void decimals() {
-    Random r = new Random(4);
+    Random r = Check.random(4);
     for (int i = 0; i < 12000; i++) {
       LibraryDesk x = new LibraryDesk();
       BigDecimal[] v = {drawDecimal(r), drawDecimal(r), drawDecimal(r)};

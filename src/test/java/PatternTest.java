@@ -347,7 +347,7 @@ public final class PatternTest {
   public static void main(String[] args) {
     int done = 0;
     for (int seed = 0; seed < 12000; seed++) {
-      r = new Random(seed);
+      r = Check.random(seed);
       done += play() ? 1 : 0;
     }
     Check.same("most PATTERNS are short enough to be played", done > 8000, true);
@@ -515,7 +515,7 @@ public final class PatternTest {
     }
     String signs = "ab(()))[]{}?*+|\\^$.-,12d=!:";
     for (int seed = 0; seed < 2500; seed++) {
-      Random random = new Random(seed);
+      Random random = Check.random(seed);
       StringBuilder b = new StringBuilder();
       for (int n = 1 + random.nextInt(12); n > 0; n--) {
         b.append(random.nextInt(5) == 0 ? new String[] {"(?:", "(?=", "(?!", "{1,", "[^"}[random.nextInt(5)] : "" + signs.charAt(random.nextInt(signs.length())));

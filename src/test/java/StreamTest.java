@@ -284,7 +284,7 @@ public final class StreamTest {
 
   public static void main(String[] args) {
     for (int seed = 0; seed < 15000; seed++) {
-      r = new Random(seed);
+      r = Check.random(seed);
       play();
     }
     examples();

@@ -9,7 +9,7 @@ public final class TextTest {
 
   public static void main(String[] args) {
     for (int seed = 0; seed < 1500; seed++) {
-      play(new Random(seed));
+      play(Check.random(seed));
     }
     edges();
     base64();
@@ -172,7 +172,7 @@ public final class TextTest {
   private static void base64() {
     LibraryDesk x = new LibraryDesk();
     int t = Check.text(x, "old");
-    Random r = new Random(3);
+    Random r = Check.random(3);
     for (int n = 0; n < 80; n++) {
       byte[] bytes = new byte[n];
       r.nextBytes(bytes);

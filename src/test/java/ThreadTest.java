@@ -19,7 +19,7 @@ public final class ThreadTest {
     turns();
     wrong();
     for (int seed = 0; seed < 12000; seed++) {
-      play(new Random(seed));
+      play(Check.random(seed));
     }
     Check.end("ThreadTest");
   }
