@@ -92,6 +92,14 @@ public final class DayTest {
       Check.illegal(() -> X.between(0, 0, what < 0 ? what : 4));
     }
     Check.due(() -> X.date(1970, 1, 1), 0);
+    for (int unit = 0; unit < 4; unit++) {
+      int u = unit;
+      Check.due(() -> X.plus(FIRST, u, 0), FIRST);
+      Check.due(() -> X.plus(LAST, u, 0), LAST);
+      Check.due(() -> X.between(FIRST, FIRST, u), 0);
+    }
+    Check.due(() -> X.plus(FIRST + 7, 1, -1), FIRST);
+    Check.due(() -> X.plus(LAST - 1, 0, 1), LAST);
     Check.arithmetic(() -> X.plus(LAST, 0, 1));
     Check.arithmetic(() -> X.plus(FIRST, 0, -1));
     Check.arithmetic(() -> X.plus(LAST, 2, 1));
