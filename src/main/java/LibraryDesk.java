@@ -51,8 +51,7 @@ public final class LibraryDesk {
   private void takeTape() {
     taken.swap(tape);
     tape.size = 0;
-    taken.at = 0;
-    taken.fault = -1;
+    taken.begin();
   }
 
   public int make(int kind, int a, int b)
@@ -893,6 +892,8 @@ public final class LibraryDesk {
     int size;
     /** Where reading stands. */
     int at;
+    /** Whether a blank must stand ahead of the word, number or sign that comes next. */
+    private boolean apart;
     /** PLACE of the first byte that could not stand there, -1 for none. */
     int fault = -1;
 
@@ -969,15 +970,49 @@ public final class LibraryDesk {
       throw new UnsupportedOperationException();
     }
 
-    void skip() {
+    /** It is read from its first byte on. */
+    void begin() {
+      at = 0;
+      apart = false;
+      fault = -1;
+    }
+
+    private void skip() {
       while (at < size && get(at) == ' ') {
         at++;
+      }
+      apart = false;
+    }
+
+    /** To what comes next; without a blank ahead of it that can't stand there. */
+    void gap() {
+      if (apart && at < size && get(at) != ' ') {
+        broken(at);
+      }
+      skip();
+    }
+
+    /** Whether this sign comes next, around which blanks may stand and need not. */
+    boolean parts(int sign) {
+      skip();
+      if (get(at) != sign) {
+        return false;
+      }
+      at++;
+      return true;
+    }
+
+    /** Nothing but blanks stands behind what was read. */
+    void needEnd() {
+      skip();
+      if (at < size) {
+        broken(at);
       }
     }
 
     /** Which one of words, with a blank between, comes next; -1 for none, and nothing is read then. */
     int known(String words) {
-      skip();
+      gap();
       int to = at;
       while (to < size && get(to) >= 'a' && get(to) <= 'z') {
         to++;
@@ -988,6 +1023,7 @@ public final class LibraryDesk {
         if (i == words.length() || words.charAt(i) == ' ') {
           if (i - from == to - at && isNext(words, from, i)) {
             at = to;
+            apart = true;
             return index;
           }
           from = i + 1;
@@ -1008,17 +1044,18 @@ public final class LibraryDesk {
 
     /** Which one of these signs comes next; -1 for none, and nothing is read then. */
     int sign(String signs) {
-      skip();
+      gap();
       int b = get(at);
       int index = b < 0 ? -1 : signs.indexOf((char) b);
       if (index >= 0) {
         at++;
+        apart = true;
       }
       return index;
     }
 
     int number(int least, int most) {
-      skip();
+      gap();
       boolean minus = get(at) == '-';
       int p = minus ? at + 1 : at;
       int first = p;
@@ -1032,6 +1069,7 @@ public final class LibraryDesk {
         return broken(at);
       }
       at = p;
+      apart = true;
       return v;
     }
   }
@@ -3026,15 +3064,16 @@ public final class LibraryDesk {
       }
     }
 
-    /** One byte, or a range of them. */
+    /** One byte, or a range of them: a - ahead of ] or of a \ is a byte by itself. */
     private void readRange(int set, int x) {
       int y = x;
       int first = in.at;
       in.at++;
-      if (byteAt(in.at) == '-' && byteAt(in.at + 1) != ']') {
+      int behind = byteAt(in.at + 1);
+      if (byteAt(in.at) == '-' && behind != ']' && behind != '\\') {
         in.at++;
-        y = byteAt(in.at);
-        if (y < 0 || y == '\\') {
+        y = behind;
+        if (y < 0) {
           in.broken(in.at);
         }
         if (y < x) {
@@ -4285,7 +4324,7 @@ public final class LibraryDesk {
         if (in.sign("|") < 0) {
           in.broken(in.at);
         }
-        in.skip();
+        in.gap();
         int first = in.at;
         int stage = in.known(STAGES);
         if (stage >= 0 && i > MOST_STAGES) {
@@ -4298,10 +4337,7 @@ public final class LibraryDesk {
           end = i;
         }
       }
-      in.skip();
-      if (in.at < in.size) {
-        in.broken(in.at);
-      }
+      in.needEnd();
     }
 
     private int needWord(String words) {
@@ -4810,7 +4846,7 @@ public final class LibraryDesk {
       int n = 0;
       boolean more = true;
       for (int turn = 0; turn <= MOST_INSTRUCTIONS && more; turn++) {
-        in.skip();
+        in.gap();
         int first = in.at;
         int word = in.known(WORDS);
         if (word < 0 || n >= MOST_INSTRUCTIONS) {
@@ -4821,12 +4857,9 @@ public final class LibraryDesk {
           draft[4 * n + 1 + i] = readNumber(NUMBERS.charAt(3 * word + i));
         }
         n++;
-        more = in.sign(";") >= 0;
+        more = in.parts(';');
       }
-      in.skip();
-      if (in.at < in.size) {
-        in.broken(in.at);
-      }
+      in.needEnd();
       return n;
     }
 

@@ -446,7 +446,9 @@ public final class StreamTest {
     due("range -7 -6 | map % 2 | first", -1, 1);
     due("range -7 -6 | filter odd | count", 1, 1);
     due("iterate 999999999 * 3 | skip 2 | first", 999999999 * 9, 2);
-    due("range 0 9|filter odd|map + 1|sum", 20, 13);
+    due("range 0 9 | filter odd | map + 1 | sum", 20, 13);
+    due("range 0 9   |  filter   >  -5 |   map  -   -1  |  sum", 45, 18);
+    due("range 0 1 | fold -3 +", -3, 1);
     due("  range  0 9  |  count  ", 9, 0);
     due("range 007 000000010 | count", 3, 0);
     due("range -0 1 | count", 1, 0);
@@ -500,6 +502,12 @@ public final class StreamTest {
         {"list 0 | skip -5 | count", 14}, {"list 0 | limit 1000000000 | count", 15}, {"list 0 | group 0", 15}, {"list 0 | group -3", 15},
         {"list 0 | fold 1 -", 16}, {"list 0 | fold + 1", 14}, {"list 0 | fold 1", 15}, {"list 0 | any", 12}, {"list 0 | all 3", 13},
         {"list 0 || count", 8}, {"| list 0 | count", 0}, {"list 0 | list 0", 14}, {"list 0 | range 0 1 | count", 9}, {"List 0 | count", 0},
+        {"range 1 2 |sum", 11}, {"range 1 2| sum", 9}, {"range 1 2|sum", 9}, {"range1 2 | sum", 5}, {"range 1-2 | sum", 7},
+        {"range 1 2x | sum", 9}, {"range 1 2 | sum5", 15}, {"range 1 2 | sum|", 15}, {"list0 | sum", 4}, {"list 0 | filter>5 | sum", 15},
+        {"list 0 | filter >5 | sum", 17}, {"list 0 | filter > 5| sum", 19}, {"list 0 | filter even| sum", 20}, {"list 0 | filter even |sum", 22},
+        {"list 0 | map +5 | sum", 14}, {"list 0 | map --5 | sum", 14}, {"list 0 | map -5 | sum", 14}, {"list 0 | map neg| sum", 16}, {"list 0 | limit5 | sum", 14},
+        {"list 0 | distinct| sum", 17}, {"list 0 | fold 1+", 15}, {"list 0 | fold 1 +x", 17}, {"list 0 | any >5", 14}, {"list 0 | any div5", 16},
+        {"list 0 | group10", 14}, {"iterate 1+ 1 | sum", 9}, {"iterate 1 +1 | sum", 11}, {"iterate1 + 1 | sum", 7},
         {"list 0 | count\n", 14}, {"list 0 |\tcount", 8}, {"list 0 | limit 1 2 | count", 17}};
     for (Object[] b : bad) {
       Check.broken(x, (String) b[0], () -> x.stream(), (Integer) b[1]);

@@ -47,11 +47,17 @@ public final class ThreadTest {
     Object[][] bad = {{"", 0}, {"  ", 2}, {"foo", 0}, {"load", 4}, {"load x", 5}, {"load 1;", 7}, {"load 1; ", 8}, {"load 1 2", 7}, {";", 0}, {"load 1;;end", 7},
         {"jump 60", 5}, {"jump -1", 5}, {"zero 60", 5}, {"less x", 5}, {"lock 24", 5}, {"lock -1", 5}, {"inc 1", 5}, {"inc 24 1", 4}, {"cas 1 2", 7},
         {"acquire 1 0", 10}, {"release 1 -1", 10}, {"acquire 1", 9}, {"end 5", 4}, {"load 1234567890", 5}, {"load -", 5}, {"Load 1", 0},
-        {"load 1 | end", 7}, {"load 1; ende", 8}, {"load 1\n", 6}, {"load --1", 5}, {"load 1; end; load 1; rest", 21}};
+        {"load 1 | end", 7}, {"load 1; ende", 8}, {"load 1\n", 6}, {"load --1", 5}, {"load 1; end; load 1; rest", 21},
+        {"load5", 4}, {"load-5", 4}, {"end; load5; end", 9}, {"inc 1-2", 5}, {"cas 1 2-3", 7}, {"acquire 1x", 9}, {"lock 0unlock 0", 6}, {"end;jump0", 8},
+        {"end5", 3}, {"end|end", 3}};
     for (Object[] b : bad) {
       Check.broken(x, (String) b[0], () -> x.thread(), (Integer) b[1]);
     }
     Check.due(() -> x.look(0, 0), 0);
+    LibraryDesk y = new LibraryDesk();
+    Check.due(() -> begin(y, "load  7;add   -3 ;  inc 0   1"), 0);
+    steps(y, 0, 1, 1, 5);
+    looks(y, 0, 5, 4, 2, -1, 0, 2);
     String end = "end";
     Check.tape(x, end + ";end".repeat(59));
     Check.due(() -> x.thread(), 0);
