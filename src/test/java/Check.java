@@ -136,6 +136,25 @@ final class Check {
     same("THE TAPE", x.count(0), 0);
   }
 
+  interface Reader {
+    long read(LibraryDesk x);
+  }
+
+  /** The tape is none that is broken, but each one that lacks a blank is; two numbers would be one then. */
+  static void withoutBlanks(String tape, Reader reader) {
+    LibraryDesk x = new LibraryDesk();
+    x.make(0, 0, 0);
+    x.make(2, 0, 0);
+    tape(x, tape);
+    same("<" + tape + ">", of(() -> reader.read(x)).startsWith("throws"), false);
+    for (int i = tape.indexOf(' '); i >= 0; i = tape.indexOf(' ', i + 1)) {
+      boolean words = Character.isLetter(tape.charAt(i - 1)) && Character.isLetter(tape.charAt(i + 1));
+      if (!Character.isDigit(tape.charAt(i - 1)) || !Character.isDigit(tape.charAt(i + 1))) {
+        broken(x, tape.substring(0, i) + tape.substring(i + 1), () -> reader.read(x), words ? tape.lastIndexOf(' ', i - 1) + 1 : i);
+      }
+    }
+  }
+
   static void end(String name) {
     if (wrong != 0) {
       System.out.println(name + ": " + wrong + " of " + calls + " calls not as due");

@@ -290,6 +290,11 @@ public final class StreamTest {
     examples();
     limits();
     broken();
+    Check.withoutBlanks("range -1 2 | filter even | map neg | while > -5 | until div 3 | limit 4 | distinct | sorted 2 | copies 3 | skip 1 | fold -3 ^", x -> x.stream());
+    Check.withoutBlanks("iterate 1 - -2 | limit 2 | map % 9 | filter = 1 | any odd", x -> x.stream());
+    Check.withoutBlanks("list 0 | map * 3 | map + 1 | map / 2 | group 4", x -> x.stream());
+    Check.withoutBlanks("keys 1 | count", x -> x.stream());
+    Check.withoutBlanks("values 1 | all < 7", x -> x.stream());
     objects();
     Check.end("StreamTest");
   }

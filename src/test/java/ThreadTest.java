@@ -6,6 +6,11 @@ import java.util.Random;
 public final class ThreadTest {
   public static void main(String[] args) {
     programs();
+    for (String program : new String[] {"load -5", "add 1", "jump 3", "zero 2", "less 1", "sleep 9", "lock 0", "try 1", "unlock 2", "wait 3", "signal 4", "all 5",
+        "get 6", "set 7", "inc 8 -1", "cas 9 -1 -2", "acquire 1 2", "release 2 3", "drain 3", "down 4", "await 5", "meet 6", "put 7", "take 8", "offer 9", "poll 0",
+        "give 1", "join 2"}) {
+      Check.withoutBlanks(program, x -> x.thread());
+    }
     plain();
     locks();
     conditions();
