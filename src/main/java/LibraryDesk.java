@@ -794,7 +794,7 @@ public final class LibraryDesk {
 
     void roomOfLongs(int n) {
       if (longs.length < n) {
-        longs = Arrays.copyOf(longs, n);
+        longs = Arrays.copyOf(longs, Math.max(n, longs.length * 2));
       }
     }
 
@@ -892,8 +892,8 @@ public final class LibraryDesk {
     int size;
     /** Where reading stands. */
     int at;
-    /** Whether a blank must stand ahead of the word, number or sign that comes next. */
-    private boolean apart;
+    /** The sign that parts one thing from the next as a blank does; -1 for none. */
+    private int parting = -1;
     /** PLACE of the first byte that could not stand there, -1 for none. */
     int fault = -1;
 
@@ -973,29 +973,35 @@ public final class LibraryDesk {
     /** It is read from its first byte on. */
     void begin() {
       at = 0;
-      apart = false;
+      parting = -1;
       fault = -1;
     }
 
-    private void skip() {
+    /** Around this sign blanks may stand and need not. */
+    void partBy(int sign) {
+      parting = sign;
+    }
+
+    /** To the first byte of what comes next. */
+    void skip() {
       while (at < size && get(at) == ' ') {
         at++;
       }
-      apart = false;
     }
 
-    /** To what comes next; without a blank ahead of it that can't stand there. */
-    void gap() {
-      if (apart && at < size && get(at) != ' ') {
-        broken(at);
+    /** The place behind what begins here: all of it up to a blank is one word, number or sign, or none. */
+    private int behind() {
+      int to = at;
+      while (to < size && get(to) != ' ' && get(to) != parting) {
+        to++;
       }
-      skip();
+      return to;
     }
 
-    /** Whether this sign comes next, around which blanks may stand and need not. */
-    boolean parts(int sign) {
+    /** Whether the sign that parts comes next. */
+    boolean goesOn() {
       skip();
-      if (get(at) != sign) {
+      if (at >= size || get(at) != parting) {
         return false;
       }
       at++;
@@ -1012,18 +1018,14 @@ public final class LibraryDesk {
 
     /** Which one of words, with a blank between, comes next; -1 for none, and nothing is read then. */
     int known(String words) {
-      gap();
-      int to = at;
-      while (to < size && get(to) >= 'a' && get(to) <= 'z') {
-        to++;
-      }
+      skip();
+      int to = behind();
       int from = 0;
       int index = 0;
       for (int i = 0; i <= words.length(); i++) {
         if (i == words.length() || words.charAt(i) == ' ') {
           if (i - from == to - at && isNext(words, from, i)) {
             at = to;
-            apart = true;
             return index;
           }
           from = i + 1;
@@ -1044,32 +1046,30 @@ public final class LibraryDesk {
 
     /** Which one of these signs comes next; -1 for none, and nothing is read then. */
     int sign(String signs) {
-      gap();
-      int b = get(at);
-      int index = b < 0 ? -1 : signs.indexOf((char) b);
+      skip();
+      int index = behind() == at + 1 ? signs.indexOf((char) get(at)) : -1;
       if (index >= 0) {
         at++;
-        apart = true;
       }
       return index;
     }
 
     int number(int least, int most) {
-      gap();
+      skip();
+      int to = behind();
       boolean minus = get(at) == '-';
       int p = minus ? at + 1 : at;
       int first = p;
       int v = 0;
-      while (p < size && get(p) >= '0' && get(p) <= '9') {
+      while (p < to && get(p) >= '0' && get(p) <= '9') {
         v = p - first < 9 ? v * 10 + get(p) - '0' : v;
         p++;
       }
       v = minus ? -v : v;
-      if (p == first || p - first > 9 || v < least || v > most) {
+      if (p < to || p == first || p - first > 9 || v < least || v > most) {
         return broken(at);
       }
-      at = p;
-      apart = true;
+      at = to;
       return v;
     }
   }
@@ -2916,12 +2916,13 @@ public final class LibraryDesk {
       in.at++;
     }
 
+    /** Behind a 0 no digit can stand; nor can the 0 itself, if it is too small. */
     private int readNumber(int least) {
       int first = in.at;
       int v = 0;
       for (; byteAt(in.at) >= '0' && byteAt(in.at) <= '9'; in.at++) {
         if (in.at > first && v == 0) {
-          in.broken(in.at);
+          in.broken(least > 0 ? first : in.at);
         }
         v = Math.min(v * 10 + byteAt(in.at) - '0', MOST_TIMES + 1);
       }
@@ -3249,6 +3250,8 @@ public final class LibraryDesk {
     static final int ATOMIC = 11;
     static final int DONE = 12;
     static final int ACCEPT = 13;
+    /** 802 instructions of a PATTERN of 400, in 11 loops each, have no more states than this at 1001 places. */
+    private static final int MOST_WAYS = 802 * 12 * (MOST + 1) / 64 + 1;
     // what a LOOK looks for
     static final int NOT = 0;
     static final int THERE = 1;
@@ -3292,7 +3295,7 @@ public final class LibraryDesk {
       there = Thing.grown(there, states);
       int words = states * (t.size - from + 1) / 64 + 1;
       if (ways.length < words) {
-        ways = new long[Math.max(words, Math.min(2 * ways.length, 80000))];
+        ways = new long[Math.max(words, Math.min(2 * ways.length, MOST_WAYS))];
       }
       Arrays.fill(ways, 0, words, 0);
       for (int at = t.size; at >= from; at--) {
@@ -4324,7 +4327,7 @@ public final class LibraryDesk {
         if (in.sign("|") < 0) {
           in.broken(in.at);
         }
-        in.gap();
+        in.skip();
         int first = in.at;
         int stage = in.known(STAGES);
         if (stage >= 0 && i > MOST_STAGES) {
@@ -4845,8 +4848,9 @@ public final class LibraryDesk {
     int readProgram() {
       int n = 0;
       boolean more = true;
+      in.partBy(';');
       for (int turn = 0; turn <= MOST_INSTRUCTIONS && more; turn++) {
-        in.gap();
+        in.skip();
         int first = in.at;
         int word = in.known(WORDS);
         if (word < 0 || n >= MOST_INSTRUCTIONS) {
@@ -4857,7 +4861,7 @@ public final class LibraryDesk {
           draft[4 * n + 1 + i] = readNumber(NUMBERS.charAt(3 * word + i));
         }
         n++;
-        more = in.parts(';');
+        more = in.goesOn();
       }
       in.needEnd();
       return n;

@@ -140,7 +140,10 @@ final class Check {
     long read(LibraryDesk x);
   }
 
-  /** The tape is none that is broken, but each one that lacks a blank is; two numbers would be one then. */
+  /**
+   * The tape is none that is broken, but each one that lacks a blank is: where that begins which two
+   * things have become. (Two numbers would be one.) So is each one with a thing that is none.
+   */
   static void withoutBlanks(String tape, Reader reader) {
     LibraryDesk x = new LibraryDesk();
     x.make(0, 0, 0);
@@ -148,10 +151,24 @@ final class Check {
     tape(x, tape);
     same("<" + tape + ">", of(() -> reader.read(x)).startsWith("throws"), false);
     for (int i = tape.indexOf(' '); i >= 0; i = tape.indexOf(' ', i + 1)) {
-      boolean words = Character.isLetter(tape.charAt(i - 1)) && Character.isLetter(tape.charAt(i + 1));
       if (!Character.isDigit(tape.charAt(i - 1)) || !Character.isDigit(tape.charAt(i + 1))) {
-        broken(x, tape.substring(0, i) + tape.substring(i + 1), () -> reader.read(x), words ? tape.lastIndexOf(' ', i - 1) + 1 : i);
+        broken(x, tape.substring(0, i) + tape.substring(i + 1), () -> reader.read(x), tape.lastIndexOf(' ', i - 1) + 1);
       }
+    }
+    wrongThings(x, tape, reader);
+  }
+
+  /** Each word, number or sign with another byte in front or behind can't stand where it stood; nor can the end. */
+  private static void wrongThings(LibraryDesk x, String tape, Reader reader) {
+    int to = -1;
+    while (to < tape.length()) {
+      int from = to + 1;
+      to = tape.indexOf(' ', from) < 0 ? tape.length() : tape.indexOf(' ', from);
+      for (String other : new String[] {"x", "\0", "|", "\u00ff"}) {
+        broken(x, tape.substring(0, from) + other + tape.substring(from), () -> reader.read(x), from);
+        broken(x, tape.substring(0, to) + other + tape.substring(to), () -> reader.read(x), from);
+      }
+      broken(x, tape.substring(0, from), () -> reader.read(x), from);
     }
   }
 

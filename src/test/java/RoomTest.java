@@ -51,6 +51,43 @@ public final class RoomTest {
     });
   }
 
+  /** Of some 7300 states, beside TEXTS that grow from call to call, places that come nearer, and PATTERNS that grow. */
+  private static void heaviest() {
+    String most = "(?:".repeat(10) + "|".repeat(18) + "){20}" + ")*".repeat(9);
+    run("places that come nearer", (x, i) -> {
+      if (i == 0) {
+        x.make(7, 0, 0);
+        x.text(0, 12, 1000, 0);
+        feed(x, words(most), most.length());
+        Check.due(() -> x.pattern(), 1);
+      } else if (i <= 25) {
+        Check.due(() -> x.match(1, 0, 1, 300 - 12 * i), 300 - 12 * i);
+      }
+    });
+    run("TEXTS that grow", (x, i) -> {
+      if (i == 0) {
+        x.make(7, 0, 0);
+        feed(x, words(most), most.length());
+        Check.due(() -> x.pattern(), 1);
+      } else if (i <= 25) {
+        x.text(0, 12, 750 + 10 * i, 0);
+        Check.due(() -> x.match(1, 0, 1, 0), 0);
+      }
+    });
+    run("PATTERNS that grow", (x, i) -> {
+      if (i == 0) {
+        x.make(7, 0, 0);
+        x.text(0, 12, 1000, 0);
+      } else if (i <= 36) {
+        String p = "(?:".repeat(10) + "|".repeat(i / 2) + "){20}" + "|".repeat(i % 2) + ")*".repeat(9);
+        feed(x, words(p), p.length());
+        Check.due(p, () -> x.pattern(), 1);
+        Check.due(() -> x.match(1, 0, 1, 0), 0);
+        x.drop(1);
+      }
+    });
+  }
+
   public static void main(String[] args) {
     String nested = "(?:(?:(?:(?:(?:(?:(?:(?:(?:(?:a{20}b?)*){14})*c)*d)*e)*f)*g)*h)*i)*j";
     run("new objects", (x, i) -> x.make(i % 20, 1, 1));
@@ -106,6 +143,7 @@ public final class RoomTest {
         x.match(1, 0, 2, i);
       }
     });
+    heaviest();
     run("wholes", (x, i) -> {
       if (i < 3) {
         x.make(11, 0, 0);

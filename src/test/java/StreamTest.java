@@ -506,14 +506,18 @@ public final class StreamTest {
         {"list 0 | copies -1 | count", 16}, {"list 0 | sorted 4 | count", 16}, {"list 0 | sorted | count", 16}, {"list 0 | limit -1 | count", 15},
         {"list 0 | skip -5 | count", 14}, {"list 0 | limit 1000000000 | count", 15}, {"list 0 | group 0", 15}, {"list 0 | group -3", 15},
         {"list 0 | fold 1 -", 16}, {"list 0 | fold + 1", 14}, {"list 0 | fold 1", 15}, {"list 0 | any", 12}, {"list 0 | all 3", 13},
-        {"list 0 || count", 8}, {"| list 0 | count", 0}, {"list 0 | list 0", 14}, {"list 0 | range 0 1 | count", 9}, {"List 0 | count", 0},
-        {"range 1 2 |sum", 11}, {"range 1 2| sum", 9}, {"range 1 2|sum", 9}, {"range1 2 | sum", 5}, {"range 1-2 | sum", 7},
-        {"range 1 2x | sum", 9}, {"range 1 2 | sum5", 15}, {"range 1 2 | sum|", 15}, {"list0 | sum", 4}, {"list 0 | filter>5 | sum", 15},
-        {"list 0 | filter >5 | sum", 17}, {"list 0 | filter > 5| sum", 19}, {"list 0 | filter even| sum", 20}, {"list 0 | filter even |sum", 22},
-        {"list 0 | map +5 | sum", 14}, {"list 0 | map --5 | sum", 14}, {"list 0 | map -5 | sum", 14}, {"list 0 | map neg| sum", 16}, {"list 0 | limit5 | sum", 14},
-        {"list 0 | distinct| sum", 17}, {"list 0 | fold 1+", 15}, {"list 0 | fold 1 +x", 17}, {"list 0 | any >5", 14}, {"list 0 | any div5", 16},
-        {"list 0 | group10", 14}, {"iterate 1+ 1 | sum", 9}, {"iterate 1 +1 | sum", 11}, {"iterate1 + 1 | sum", 7},
-        {"list 0 | count\n", 14}, {"list 0 |\tcount", 8}, {"list 0 | limit 1 2 | count", 17}};
+        {"list 0 || count", 7}, {"| list 0 | count", 0}, {"list 0 | list 0", 14}, {"list 0 | range 0 1 | count", 9}, {"List 0 | count", 0},
+        {"range 1 2 |sum", 10}, {"range 1 2| sum", 8}, {"range 1 2|sum", 8}, {"range1 2 | sum", 0}, {"range 1-2 | sum", 6},
+        {"range 1 2x | sum", 8}, {"range 1 2 | sum5", 12}, {"range 1 2 | sum|", 12}, {"list0 | sum", 0}, {"list 0 | filter>5 | sum", 9},
+        {"list 0 | filter >5 | sum", 16}, {"list 0 | filter > 5| sum", 18}, {"list 0 | filter even| sum", 16}, {"list 0 | filter even |sum", 21},
+        {"list 0 | map +5 | sum", 13}, {"list 0 | map --5 | sum", 13}, {"list 0 | map -5 | sum", 13}, {"list 0 | map neg| sum", 13}, {"list 0 | limit5 | sum", 9},
+        {"list 0 | distinct| sum", 9}, {"list 0 | fold 1+", 14}, {"list 0 | fold 1 +x", 16}, {"list 0 | any >5", 13}, {"list 0 | any div5", 13},
+        {"list 0 | group10", 9}, {"iterate 1+ 1 | sum", 8}, {"iterate 1 +1 | sum", 10}, {"iterate1 + 1 | sum", 0},
+        {"list 0 | count\n", 9}, {"list 0 |\tcount", 7}, {"list 0 | limit 1 2 | count", 17},
+        {"range 1 2 |s\0\0\0\0\0\0\0\0", 10}, {"range 1 2 | sum\0\0\0\0\0", 12}, {"range 1 2\0", 8}, {"range\0", 0}, {"range 1 2 |\0", 10},
+        {"range 1 2 | \0", 12}, {"range 1 2 \0", 10}, {"\0range 1 2", 0}, {"range 1 2 | sum \0", 16}, {"range 1 2 | filtereven | sum", 12},
+        {"list 0 | filter <= 5 | sum", 16}, {"list 0 | filter div5 | sum", 16}, {"list 0 | fold 1 ++", 16}, {"list 00x | sum", 5}, {"list 0 | sorted 1,2 | sum", 16},
+        {"range 1 2;| sum", 8}, {"range 1 2 ;| sum", 10}};
     for (Object[] b : bad) {
       Check.broken(x, (String) b[0], () -> x.stream(), (Integer) b[1]);
     }

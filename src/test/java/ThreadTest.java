@@ -52,9 +52,11 @@ public final class ThreadTest {
     Object[][] bad = {{"", 0}, {"  ", 2}, {"foo", 0}, {"load", 4}, {"load x", 5}, {"load 1;", 7}, {"load 1; ", 8}, {"load 1 2", 7}, {";", 0}, {"load 1;;end", 7},
         {"jump 60", 5}, {"jump -1", 5}, {"zero 60", 5}, {"less x", 5}, {"lock 24", 5}, {"lock -1", 5}, {"inc 1", 5}, {"inc 24 1", 4}, {"cas 1 2", 7},
         {"acquire 1 0", 10}, {"release 1 -1", 10}, {"acquire 1", 9}, {"end 5", 4}, {"load 1234567890", 5}, {"load -", 5}, {"Load 1", 0},
-        {"load 1 | end", 7}, {"load 1; ende", 8}, {"load 1\n", 6}, {"load --1", 5}, {"load 1; end; load 1; rest", 21},
-        {"load5", 4}, {"load-5", 4}, {"end; load5; end", 9}, {"inc 1-2", 5}, {"cas 1 2-3", 7}, {"acquire 1x", 9}, {"lock 0unlock 0", 6}, {"end;jump0", 8},
-        {"end5", 3}, {"end|end", 3}};
+        {"load 1 | end", 7}, {"load 1; ende", 8}, {"load 1\n", 5}, {"load --1", 5}, {"load 1; end; load 1; rest", 21},
+        {"load5", 0}, {"load-5", 0}, {"end; load5; end", 5}, {"inc 1-2", 4}, {"cas 1 2-3", 6}, {"acquire 1x", 8}, {"lock 0unlock 0", 5}, {"end;jump0", 4},
+        {"end5", 0}, {"end|end", 0}, {"end; load 5x; end", 10}, {"end;load 5x;end", 9}, {"end ;load5 ;end", 5}, {"load;end", 4}, {"load ;end", 5},
+        {"end; ;end", 5}, {"inc 1;end", 5}, {"inc 1 ; end", 6}, {"load 5 x; end", 7}, {"load 5 x;", 7}, {"end\0", 0}, {"end;\0", 4}, {"end; load 5\0\0", 10},
+        {"end \0", 4}, {"load 5end; end", 5}, {"end;;", 4}, {";end", 0}, {"cas 1 2 3;4", 10}, {"load 5,end", 5}, {"load 1 2\0", 7}};
     for (Object[] b : bad) {
       Check.broken(x, (String) b[0], () -> x.thread(), (Integer) b[1]);
     }
