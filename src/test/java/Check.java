@@ -29,7 +29,7 @@ final class Check {
   static void fail(String what) {
     wrong++;
     if (wrong < 20) {
-      System.out.println(what);
+      System.out.println(what.length() <= 2000 ? what : what.substring(0, 2000) + " ..");
       StackTraceElement[] trace = new Throwable().getStackTrace();
       for (StackTraceElement e : trace) {
         if (!e.getClassName().equals("Check")) {
@@ -86,6 +86,147 @@ final class Check {
     same("a call", of(call), "throws.NegativeArraySizeException");
   }
 
+  /** The call is refused, and all that can be seen of x is behind it as it was. */
+  private static void refused(LibraryDesk x, String what, Call call) {
+    String before = State.of(x);
+    same("a call", of(call), "throws." + what + "Exception");
+    unchanged(x, before);
+  }
+
+  static void none(LibraryDesk x, Call call) {
+    refused(x, "NoSuchElement", call);
+  }
+
+  static void cast(LibraryDesk x, Call call) {
+    refused(x, "ClassCast", call);
+  }
+
+  static void illegal(LibraryDesk x, Call call) {
+    refused(x, "IllegalArgument", call);
+  }
+
+  static void state(LibraryDesk x, Call call) {
+    refused(x, "IllegalState", call);
+  }
+
+  static void unsupported(LibraryDesk x, Call call) {
+    refused(x, "UnsupportedOperation", call);
+  }
+
+  static void beyond(LibraryDesk x, Call call) {
+    refused(x, "IndexOutOfBounds", call);
+  }
+
+  static void arithmetic(LibraryDesk x, Call call) {
+    refused(x, "Arithmetic", call);
+  }
+
+  static void negative(LibraryDesk x, Call call) {
+    refused(x, "NegativeArraySize", call);
+  }
+
+  /** The call answers, and all that can be seen of x is behind it as it was. */
+  static void still(LibraryDesk x, Call call, long want) {
+    String before = State.of(x);
+    due(call, want);
+    unchanged(x, before);
+  }
+
+  private static void unchanged(LibraryDesk x, String before) {
+    String now = State.of(x);
+    int i = 0;
+    while (i < before.length() && i < now.length() && before.charAt(i) == now.charAt(i)) {
+      i++;
+    }
+    if (!now.equals(before)) {
+      fail("behind a call that changes nothing is .." + near(now, i) + ".. what was .." + near(before, i) + "..");
+    }
+  }
+
+  private static String near(String s, int i) {
+    return s.substring(Math.max(0, i - 60), Math.min(s.length(), i + 20));
+  }
+
+  /** A desk whose OBJECT 0 is a LIST of these. */
+  static LibraryDesk row(int... elements) {
+    LibraryDesk x = new LibraryDesk();
+    x.make(0, 0, 0);
+    for (int e : elements) {
+      x.list(0, 0, e, 0);
+    }
+    return x;
+  }
+
+  /** LIST, VIEW or RING o has just these. */
+  static void holds(LibraryDesk x, int o, int... elements) {
+    String got = "";
+    String want = "";
+    for (int e : elements) {
+      want += " " + e;
+    }
+    long size = x.count(10 + o) == 1 ? x.ring(o, 6, 0) : x.list(o, 24, 0, 0);
+    for (int i = 0; i < size; i++) {
+      got += " " + x.item(o, i, 0);
+    }
+    same("row " + o, got, want);
+  }
+
+  /** MAP o has just these keys in this order. */
+  static void keys(LibraryDesk x, int o, int... keys) {
+    String got = "";
+    String want = "";
+    for (int k : keys) {
+      want += " " + k;
+    }
+    for (int i = 0; i < x.map(o, 4, 0, 0); i++) {
+      got += " " + x.item(o, i, 0);
+    }
+    same("keys of " + o, got, want);
+  }
+
+  /** LIST o, which is empty, gets n times the ELEMENT 7, by few calls. */
+  static void fill(LibraryDesk x, int o, int n) {
+    for (int bit = 11; bit >= 0; bit--) {
+      x.list(o, 9, 0, o);
+      if ((n >> bit & 1) != 0) {
+        x.list(o, 0, 7, 0);
+      }
+    }
+  }
+
+  /** A desk with an OBJECT of each KIND; its number is that of its KIND, 21 .. 23 are free. */
+  static LibraryDesk furnished() {
+    LibraryDesk x = row(3, 1, 2);
+    for (int kind = 1; kind <= 7; kind++) {
+      x.make(kind, 1, 0);
+    }
+    for (int i = 1; i <= 3; i++) {
+      x.ring(1, 1, i);
+      x.map(2, 0, i, 10 * i);
+      x.map(4, 0, i, 10 * i);
+      x.heap(5, 0, i);
+      x.bits(6, 0, i, 0);
+    }
+    x.map(3, 0, 1, 10);
+    tape(x, "abc");
+    x.text(7, 0, 0, 0);
+    tape(x, "b");
+    x.pattern();
+    x.cursor(0);
+    x.view(0, 0, 0, 2);
+    for (int kind = 11; kind <= 19; kind++) {
+      x.make(kind, 2, 0);
+    }
+    x.set(11, 5);
+    tape(x, "2.5");
+    x.read(12, 10);
+    x.view(4, 4, 0, 0);
+    for (int o = 0; o <= 20; o++) {
+      same("KIND of " + o, x.count(10 + o), o);
+    }
+    return x;
+  }
+
   /** THE TAPE, which is empty, gets these bytes. */
   static void tape(LibraryDesk x, String s) {
     x.end(0);
@@ -131,7 +272,9 @@ final class Check {
   /** The call breaks at a place. */
   static void broken(LibraryDesk x, String tape, Call call, long place) {
     tape(x, tape);
+    String before = State.of(x);
     same("<" + tape + ">", of(call), "throws.UnsupportedOperationException");
+    unchanged(x, before);
     same("PLACE of <" + tape + ">", x.count(3), place);
     same("THE TAPE", x.count(0), 0);
   }
