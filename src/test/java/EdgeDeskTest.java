@@ -18,6 +18,7 @@ public final class EdgeDeskTest {
     opsThatNoCallHas();
     staleIsAheadOfNotForThatKind();
     leastFreeNumber();
+    madeAnew();
     makeRanges();
     makeOrder();
     fullForAllThatMakeOne();
@@ -626,5 +627,103 @@ public final class EdgeDeskTest {
     Check.tape(x, "range 0 3 | count");
     Check.due(() -> x.stream(), 3);
     Check.due(() -> x.count(4), 0);
+  }
+
+  /** A desk with a LIST, a TREE and a TEXT, whose next OBJECT is 2. */
+  private static LibraryDesk withTwoFree() {
+    LibraryDesk x = Check.row(1, 2, 3);
+    x.make(4, 0, 0);
+    x.make(18, 0, 0);
+    Check.text(x, "aab");
+    for (int k = 1; k <= 3; k++) {
+      x.map(1, 0, k, 10 * k);
+    }
+    x.drop(2);
+    return x;
+  }
+
+  /** OBJECT 2 of a KIND, with the least a and b, or with great ones. */
+  private static void makeTwo(LibraryDesk x, int kind, boolean great) {
+    if (kind == 8) {
+      Check.tape(x, great ? "([^c]x|(a))+b$" : "a");
+    }
+    int[] most = {1000, 1000, 64, 7, 2, 1000, 5, 5, 0, 0, 0, 5, 5, 5, 5, 5, 8, 100, 5, 5};
+    int[] least = {0, 0, 0, 0, 0, 1, 0, 0, 0, 0, 0, 0, 0, 0, 0, 0, 1, 1, 0, 0};
+    Check.due("KIND " + kind, () -> kind == 8 ? x.pattern() : kind == 9 ? x.cursor(great ? 0 : 1) : kind == 10 ? x.view(0, 0, great ? 1 : 0, 3)
+        : kind == 20 ? x.view(1, great ? 1 : 3, 2, 9) : x.make(kind, (great ? most : least)[kind], great ? kind == 2 || kind == 5 ? 2 : 1 : 0), 2);
+    Check.due(() -> x.count(12), kind);
+  }
+
+  private static void runTwo(LibraryDesk x, String program) {
+    Check.tape(x, program);
+    x.thread();
+    x.run(1, 100);
+  }
+
+  /** OBJECT 2 gets what its KIND can have. */
+  private static void fillTwo(LibraryDesk x, int kind) {
+    String[] programs = {"lock 2;lock 2", "release 2 7;acquire 2 1", "down 2", "end", "load 3;offer 2;load 4;offer 2;poll 2", "inc 2 9", "load 8;give 2"};
+    for (int i = 0; i < 12; i++) {
+      int k = i;
+      switch (kind) {
+        case 0, 10 -> x.list(2, 0, k, 0);
+        case 1 -> x.ring(2, 0, k);
+        case 2, 3, 4 -> x.map(2, 0, 64 * k + 5, k);
+        case 5 -> x.heap(2, 0, -k);
+        case 6 -> x.bits(2, 3, 5 * k, 300 * k);
+        case 7 -> {
+          Check.tape(x, "text " + k);
+          x.text(2, 1, 0, 0);
+        }
+        case 8 -> Check.due(() -> x.match(2, 3, 2, 3), -1);
+        case 9 -> Check.of(() -> x.move(2, k % 2 == 0 ? 0 : 2, 0));
+        case 11 -> x.set(2, Long.MIN_VALUE >> k);
+        case 12 -> {
+          Check.tape(x, "-12.34");
+          x.read(2, 10);
+        }
+        case 20 -> Check.of(() -> x.map(2, 0, k, -k));
+        default -> { }
+      }
+    }
+    if (kind >= 13 && kind <= 19) {
+      runTwo(x, programs[kind - 13]);
+    }
+  }
+
+  /** "A new OBJECT", in the place of one that went: nothing of that is left, whatever the two are. */
+  private static void madeAnew() {
+    for (int kind = 0; kind <= 20; kind++) {
+      LibraryDesk y = withTwoFree();
+      makeTwo(y, kind, false);
+      String first = State.of(y, 2);
+      fillTwo(y, kind);
+      String last = State.of(y, 2);
+      for (int before = 0; before <= 20; before++) {
+        LibraryDesk x = withTwoFree();
+        makeTwo(x, before, true);
+        fillTwo(x, before);
+        Check.due(() -> x.drop(2), 1);
+        if (before == 10) {
+          x.list(0, 8, 0, 0);
+          for (int e = 1; e <= 3; e++) {
+            x.list(0, 0, e, 0);
+          }
+        } else if (before == 20) {
+          x.map(1, 5, 0, 0);
+          for (int k = 1; k <= 3; k++) {
+            x.map(1, 0, k, 10 * k);
+          }
+        }
+        makeTwo(x, kind, false);
+        Check.same("KIND " + kind + " behind " + before, State.of(x, 2), first);
+        if (kind == 8) {
+          Check.due(() -> x.match(2, 3, 2, 0), 1);
+          Check.due(() -> x.group(0, 0) * 10 + x.group(1, 0), -1);
+        }
+        fillTwo(x, kind);
+        Check.same("KIND " + kind + " behind " + before + ", filled", State.of(x, 2), last);
+      }
+    }
   }
 }

@@ -7,6 +7,8 @@ public final class EdgeMapTest {
   public static void main(String[] args) {
     fullMaps();
     fullByAll();
+    fullByNewKeysAlone();
+    limitOfOne();
     limitsOfLinked();
     neverFull();
     firstTables();
@@ -16,6 +18,8 @@ public final class EdgeMapTest {
     binsWithSmallTables();
     bushyNoMore();
     bushyOnesDoubled();
+    bushyBinsFarBehind();
+    bushyOnesBesideOthers();
     binsByRule();
     orderOfBins();
     linkedByUse();
@@ -35,6 +39,8 @@ public final class EdgeMapTest {
     turnedSubmaps();
     emptySubmaps();
     submapsOfSubmaps();
+    submapsOfEachKind();
+    goneFromASubmapAlone();
     keysThatAreNoneOfThese();
     viewKinds();
     cursorsAtTheEnd();
@@ -322,7 +328,7 @@ public final class EdgeMapTest {
   /** "h of a key by RULE: 0 itself, 1 it mod 16, 2 7, 3 it * -1640531527; BIN: h ^ (h >>> 16) mod TABLE", mod never below 0. */
   private static void binsByRule() {
     for (int rule = 0; rule < 4; rule++) {
-      int[] keys = {-1, 0, 1, LOW, HIGH, 65536, -65537, 16, 17, -16, 1 << 20};
+      int[] keys = {-1, 0, 1, 2, 3, 5, 100, 12345, LOW, HIGH, 65536, -65537, 16, 17, -16, 1 << 20};
       for (int k : keys) {
         for (int l : keys) {
           if (k == l) {
@@ -700,6 +706,8 @@ public final class EdgeMapTest {
     Check.keys(x, 5, 20, 30);
     Check.due(() -> x.view(5, 1, 20, 30), 6);
     Check.keys(x, 6, 20);
+    Check.due(() -> x.view(1, 1, 20, 20), 7);
+    Check.keys(x, 7);
     Check.due(() -> x.map(2, 0, 11, 0), NONE);
     Check.illegal(x, () -> x.map(2, 0, 10, 0));
     Check.illegal(x, () -> x.map(2, 0, 9, 0));
@@ -897,5 +905,208 @@ public final class EdgeMapTest {
     x.map(0, 0, 2, 0);
     x.map(0, 2, 2, 0);
     Check.state(x, () -> x.move(2, 8, 0));
+  }
+
+  /** A map of keys 0 .. n - 1 comes by one call. */
+  private static int many(LibraryDesk x, int n) {
+    Check.tape(x, "range 0 " + n + " | group 1000");
+    return (int) x.stream();
+  }
+
+  /** 20: "full by how many new keys would come": those that are there, the first one too, and alike ones do not count. */
+  private static void fullByNewKeysAlone() {
+    int[][] kinds = {{2, 0, 0}, {2, 0, 3}, {3, 0, 0}, {3, 0, 1}, {4, 0, 0}, {4, 1, 0}, {4, 2, 0}};
+    for (int[] m : kinds) {
+      LibraryDesk x = map(m[0], m[1], m[2]);
+      int all = many(x, 1000);
+      Check.due(() -> x.map(0, 20, 0, all), 1000);
+      x.make(3, 0, 0);
+      x.map(2, 0, (int) x.item(0, 0, 0), -5);
+      Check.due(() -> x.map(0, 20, 0, 2), 1);
+      Check.due(() -> x.map(0, 9, -5, 0), 1);
+      x.map(2, 0, (int) x.item(0, 999, 0), -5);
+      x.map(2, 0, 1000, -5);
+      Check.state(x, () -> x.map(0, 20, 0, 2));
+      Check.due(() -> x.map(2, 2, 1000, 0), -5);
+      Check.due(() -> x.map(0, 20, 0, 2), m[0] == 3 && m[2] == 1 ? 1 : 2);
+    }
+    LibraryDesk x = map(4, 3, 0, 70);
+    Check.tape(x, "range 0 1000 | map * 10 | map + 1 | group 99999");
+    Check.due(() -> x.stream(), 1);
+    Check.due(() -> x.map(1, 4, 0, 0), 1000);
+    Check.due(() -> x.map(0, 20, 0, 1), 1000);
+    Check.due(() -> x.map(0, 4, 0, 0), 2);
+    Check.due(() -> x.item(0, 0, 0), 70);
+  }
+
+  /** LIMIT 1 is above 0, too: all come, and the last one stays. */
+  private static void limitOfOne() {
+    LibraryDesk x = map(3, 1, 0, -7);
+    int all = many(x, 1000);
+    Check.due(() -> x.map(0, 20, 0, all), 1000);
+    Check.due(() -> x.map(0, 4, 0, 0), 1);
+    Check.due(() -> x.item(0, 0, 0), x.item(all, 999, 0));
+    LibraryDesk y = map(3, 1000, 0);
+    int more = many(y, 1000);
+    y.map(0, 0, -1, 5);
+    Check.due(() -> y.map(0, 20, 0, more), 1000);
+    Check.due(() -> y.map(0, 4, 0, 0), 1000);
+    Check.due(() -> y.map(0, 3, -1, 0), 0);
+  }
+
+  /** BUSHY BINS of each number, the last one too: one more with the ninth key, one less with the seventh. */
+  private static void bushyBinsFarBehind() {
+    int[] bins = {0, 1, 62, 63, 64, 65, 127, 128, 511, 512, 1022, 1023};
+    LibraryDesk x = map(2, 1000, 0);
+    for (int i = 0; i < 9; i++) {
+      for (int k = 0; k < bins.length; k++) {
+        x.map(0, 0, bins[k] + 1024 * i, 0);
+        int bushy = i == 8 ? k + 1 : 0;
+        Check.due("BUSHY with BIN " + bins[k], () -> x.map(0, 22, 0, 0), bushy);
+      }
+    }
+    Check.due(() -> x.map(0, 21, 0, 0), 1024);
+    for (int i = 0; i < 3; i++) {
+      for (int k = 0; k < bins.length; k++) {
+        x.map(0, 2, bins[k] + 1024 * (8 - 4 * i), 0);
+        int bushy = i == 2 ? bins.length - 1 - k : bins.length;
+        Check.due("BUSHY without BIN " + bins[k], () -> x.map(0, 22, 0, 0), bushy);
+      }
+    }
+  }
+
+  /** A BIN is BUSHY by its own keys, not by those of the BINS beside it; by one that goes none becomes BUSHY. */
+  private static void bushyOnesBesideOthers() {
+    LibraryDesk x = map(2, 64, 0);
+    for (int bin = 4; bin <= 6; bin++) {
+      for (int i = 0; i < 8; i++) {
+        x.map(0, 0, bin + 128 * (i / 2) + 64 * (i % 2), 0);
+      }
+    }
+    Check.due(() -> x.map(0, 22, 0, 0), 0);
+    x.map(0, 2, 5, 0);
+    Check.due(() -> x.map(0, 22, 0, 0), 0);
+    x.map(0, 0, 5, 0);
+    x.map(0, 0, 5 + 128 * 4, 0);
+    Check.due(() -> x.map(0, 22, 0, 0), 1);
+    x.map(0, 0, 5 + 128 * 5, 0);
+    x.map(0, 2, 5 + 64, 0);
+    Check.due(() -> x.map(0, 4, 0, 0), 25);
+    for (int k = 10; k < 33; k++) {
+      x.map(0, 0, k, 0);
+    }
+    Check.due(() -> x.map(0, 21, 0, 0), 64);
+    Check.due(() -> x.map(0, 22, 0, 0), 1);
+    x.map(0, 0, 33, 0);
+    Check.due(() -> x.map(0, 21, 0, 0), 128);
+    Check.due(() -> x.map(0, 22, 0, 0), 0);
+    LibraryDesk y = map(2, 64, 0);
+    for (int i = 0; i < 9; i++) {
+      y.map(0, 0, 8 + 64 * i, 0);
+      y.map(0, 0, 7 + 64 * (i % 8), 0);
+      y.map(0, 0, 9 + 64 * (i % 8), 0);
+    }
+    Check.due(() -> y.map(0, 22, 0, 0), 1);
+    for (int i = 0; i < 3; i++) {
+      y.map(0, 2, 8 + 64 * i, 0);
+      int bushy = i == 2 ? 0 : 1;
+      Check.due(() -> y.map(0, 22, 0, 0), bushy);
+    }
+    y.map(0, 2, 7, 0);
+    Check.due(() -> y.map(0, 22, 0, 0), 0);
+  }
+
+  private static boolean isBefore(int order, boolean turned, int k, int l) {
+    long p = order == 1 ? -(long) k : order == 3 ? Math.floorMod(k, 10) : order == 2 ? 4L * Math.abs((long) k) + (k < 0 ? 0 : 1) : k;
+    long q = order == 1 ? -(long) l : order == 3 ? Math.floorMod(l, 10) : order == 2 ? 4L * Math.abs((long) l) + (l < 0 ? 0 : 1) : l;
+    return turned ? q < p : p < q;
+  }
+
+  /** Of three SUBMAPS within one another, of each kind and with each edge that is beside or on a key: "just those keys of o, that are or come". */
+  private static void submapsOfEachKind() {
+    int[][] views = {{1, -1, -1}, {1, -1, 0}, {1, -1, 2}, {1, 0, -1}, {1, 0, 0}, {1, 0, 2}, {1, 2, -1}, {1, 2, 0}, {1, 2, 2}, {2, -1, 9}, {2, 0, 9}, {2, 2, 9}, {3, -1, 9}, {3, 0, 9}, {3, 2, 9}, {4, 9, 9}};
+    for (int order = 0; order < 4; order++) {
+      for (int n = 0; n < 16 * 16 * 16; n++) {
+        int[][] chain = {views[n / 256], views[n / 16 % 16], views[n % 16]};
+        submapsWithin(order, chain);
+      }
+    }
+  }
+
+  private static void submapsWithin(int order, int[][] chain) {
+    java.util.List<Integer> keys = new java.util.ArrayList<>();
+    LibraryDesk x = new LibraryDesk();
+    x.make(4, order, 0);
+    for (int k = -2; k <= 3; k++) {
+      x.map(0, 0, k, 10 * k);
+      keys.add(k);
+    }
+    keys.sort((k, l) -> isBefore(order, false, k, l) ? -1 : 1);
+    boolean turned = false;
+    int o = 0;
+    for (int[] v : chain) {
+      int of = o;
+      boolean t = turned;
+      if (v[0] == 1 && isBefore(order, t, v[2], v[1])) {
+        Check.same("from behind to", Check.of(() -> x.view(of, v[0], v[1], v[2])), "throws.IllegalArgumentException");
+        return;
+      }
+      o = x.view(of, v[0], v[1], v[2]);
+      keys.removeIf(k -> v[0] != 4 && (v[0] != 2 && isBefore(order, t, k, v[1]) || v[0] == 2 && !isBefore(order, t, k, v[1]) || v[0] == 1 && !isBefore(order, t, k, v[2])));
+      if (v[0] == 4) {
+        turned = !turned;
+        java.util.Collections.reverse(keys);
+      }
+    }
+    String what = "ORDER " + order + ", " + java.util.Arrays.deepToString(chain);
+    int s = o;
+    Check.due(what, () -> x.map(s, 4, 0, 0), keys.size());
+    for (int i = 0; i < keys.size(); i++) {
+      int k = i;
+      Check.due(what, () -> x.item(s, k, 0), keys.get(k));
+    }
+    for (int key = -2; key <= 3; key++) {
+      int k = key;
+      boolean inside = keys.contains(k);
+      Check.same(what, Check.of(() -> x.map(s, 0, k, 10 * k)), inside ? "" + 10 * k : "throws.IllegalArgumentException");
+      Check.due(what, () -> x.map(s, 1, k, 0), inside ? 10 * k : NONE);
+      nearest(x, s, order, turned, keys, k, what);
+    }
+  }
+
+  private static void nearest(LibraryDesk x, int s, int order, boolean turned, java.util.List<Integer> keys, int k, String what) {
+    long[] due = {NONE, NONE, NONE, NONE};
+    long before = 0;
+    for (int key : keys) {
+      boolean ahead = isBefore(order, turned, key, k);
+      boolean behind = isBefore(order, turned, k, key);
+      before += ahead ? 1 : 0;
+      due[0] = ahead ? key : due[0];
+      due[1] = behind ? due[1] : key;
+      due[2] = due[2] == NONE && !ahead ? key : due[2];
+      due[3] = due[3] == NONE && behind ? key : due[3];
+    }
+    for (int i = 0; i < 4; i++) {
+      int op = 14 + i;
+      Check.due(what + " nearest " + op, () -> x.map(s, op, k, 0), due[i]);
+    }
+    Check.due(what + " before", () -> x.map(s, 23, k, 0), before);
+  }
+
+  /** 5, 12 and 13 of a SUBMAP: the keys ahead of it and behind it stay, with their VALUES. */
+  private static void goneFromASubmapAlone() {
+    LibraryDesk x = map(4, 0, 0, 1, 2, 3, 4, 5, 6, 7, 8);
+    x.view(0, 1, 3, 7);
+    x.view(1, 4, 0, 0);
+    Check.due(() -> x.map(1, 12, 0, 0), 3);
+    Check.due(() -> x.map(2, 12, 0, 0), 6);
+    Check.keys(x, 0, 1, 2, 4, 5, 7, 8);
+    Check.due(() -> x.map(2, 5, 0, 0), 2);
+    Check.keys(x, 0, 1, 2, 7, 8);
+    for (int k : new int[] {1, 2, 7, 8}) {
+      Check.still(x, () -> x.map(0, 1, k, 0), 10 * k);
+    }
+    Check.still(x, () -> x.map(0, 18, 0, 0), (1 ^ 10) + (2 ^ 20) + (7 ^ 70) + (8 ^ 80));
+    Check.still(x, () -> x.map(1, 5, 0, 0), 0);
   }
 }

@@ -4,6 +4,7 @@ public final class EdgeNumberTest {
 
   public static void main(String[] args) {
     wholesAtTheLimit();
+    carriedThroughAll();
     bitsAtTheLimit();
     powersAtTheLimit();
     shiftsAtTheLimit();
@@ -11,6 +12,8 @@ public final class EdgeNumberTest {
     quotientsWithSign();
     greatestDivisors();
     powersMod();
+    powersModSmall();
+    quotientsAtEachEdge();
     roots();
     setAndSigns();
     bitsTold();
@@ -23,6 +26,7 @@ public final class EdgeNumberTest {
     digitsOfEachRadix();
     longWholes();
     wholesShown();
+    digitsShown();
     digitsAtTheLimit();
     scalesAtTheLimit();
     scaleAndMode();
@@ -808,5 +812,120 @@ public final class EdgeNumberTest {
     x.make(11, 0, 0);
     Check.illegal(x, () -> x.tell(3, 6));
     Check.due(() -> x.tell(3, 3), 1);
+  }
+
+  /** What is carried goes through all bits, up to the highest and down to the lowest. */
+  private static void carriedThroughAll() {
+    String zeros = "0".repeat(511);
+    LibraryDesk x = wholes("0", "1" + zeros, "1", "7" + "f".repeat(511), "-1" + zeros, "8" + zeros);
+    Check.due(() -> x.whole(0, 1, 1, 2), 1);
+    is(x, 0, 16, "f".repeat(511));
+    Check.due(() -> x.whole(0, 0, 0, 2), 1);
+    is(x, 0, 16, "1" + zeros);
+    Check.due(() -> x.whole(0, 0, 4, 2), -1);
+    is(x, 0, 16, "-" + "f".repeat(511));
+    Check.due(() -> x.whole(0, 1, 2, 1), -1);
+    is(x, 0, 16, "-" + "f".repeat(511));
+    Check.due(() -> x.whole(0, 0, 3, 2), 1);
+    is(x, 0, 16, "8" + zeros);
+    Check.due(() -> x.whole(0, 1, 5, 3), 1);
+    is(x, 0, 16, "1");
+    Check.due(() -> x.whole(0, 0, 4, 1), 0);
+    is(x, 0, 16, "0");
+    LibraryDesk y = wholes("0", "ffffffffffffffffffffffffffffffff", "fffffffffffffffffffffffff");
+    Check.due(() -> y.whole(0, 2, 1, 1), 1);
+    is(y, 0, 16, "f".repeat(31) + "e" + "0".repeat(31) + "1");
+    Check.due(() -> y.whole(0, 3, 0, 1), 1);
+    is(y, 0, 16, "f".repeat(32));
+    Check.due(() -> y.whole(0, 2, 1, 2), 1);
+    Check.due(() -> y.whole(0, 3, 0, 2), 1);
+    is(y, 0, 16, "f".repeat(32));
+    Check.due(() -> y.whole(0, 2, 1, 2), 1);
+    Check.due(() -> y.whole(0, 4, 0, 1), 0);
+  }
+
+  /** 8: each p, q and o that is small, o being p or q as well. */
+  private static void powersModSmall() {
+    LibraryDesk x = numbers(0, 0, 0);
+    for (int p = -9; p <= 9; p++) {
+      for (int q = 0; q <= 9; q++) {
+        for (int mod = 1; mod <= 9; mod++) {
+          long want = 1 % mod;
+          for (int i = 0; i < q; i++) {
+            want = Math.floorMod(want * p, mod);
+          }
+          x.set(0, mod);
+          x.set(1, p);
+          x.set(2, q);
+          Check.due(p + " to " + q + " mod " + mod, () -> x.whole(0, 8, 1, 2), Long.signum(want));
+          Check.due(p + " to " + q + " mod " + mod, () -> x.tell(0, 2), want);
+        }
+      }
+    }
+    for (int v = 1; v <= 9; v++) {
+      x.set(0, v);
+      long want = 1;
+      for (int i = 0; i < v; i++) {
+        want = want * v % v;
+      }
+      Check.due(() -> x.whole(0, 8, 0, 0), Long.signum(want));
+    }
+    String mod = "8" + "0".repeat(510) + "1";
+    LibraryDesk y = wholes(mod, "-" + MOST, MOST);
+    Check.due(() -> y.whole(0, 8, 1, 2), 1);
+    java.math.BigInteger most = new java.math.BigInteger(MOST, 16);
+    is(y, 0, 16, most.negate().modPow(most, new java.math.BigInteger(mod, 16)).toString(16));
+    LibraryDesk z = numbers((1L << 61) - 1, 2, 61);
+    Check.due(() -> z.whole(0, 8, 1, 2), 1);
+    is(z, 0, 10, "1");
+    z.set(0, 1000000007);
+    z.set(1, -3);
+    z.set(2, 1000000007);
+    Check.due(() -> z.whole(0, 8, 1, 2), 1);
+    is(z, 0, 10, "1000000004");
+  }
+
+  /** 3, 4: p is q times a number, and one more or less: the quotient just comes, or does not. */
+  private static void quotientsAtEachEdge() {
+    String[] divisors = {"1", "2", "7fffffff", "80000000", "ffffffff", "100000000", "100000001", "7fffffffffffffff", "8000000000000000", "80000000ffffffff", "ffffffff00000000", "ffffffffffffffff",
+        "100000000ffffffff", "800000000000000000000000", "ffffffff0000000000000001", "8000000000000000ffffffff", "fffffffffffffffffffffffffffffffe"};
+    for (String d : divisors) {
+      for (String f : divisors) {
+        LibraryDesk x = wholes("0", d, f, "1", "0");
+        x.whole(0, 2, 1, 2);
+        Check.due(() -> x.whole(4, 3, 0, 1), 1);
+        is(x, 4, 16, f);
+        Check.due(() -> x.whole(4, 4, 0, 1), 0);
+        x.whole(0, 0, 0, 1);
+        x.whole(0, 1, 0, 3);
+        Check.due(() -> x.whole(4, 3, 0, 1), 1);
+        is(x, 4, 16, f);
+        x.whole(4, 4, 0, 1);
+        x.whole(4, 0, 4, 3);
+        is(x, 4, 16, d);
+        x.whole(0, 0, 0, 3);
+        x.whole(4, 3, 0, 1);
+        x.whole(4, 1, 4, 3);
+        is(x, 4, 16, f);
+      }
+    }
+  }
+
+  /** show: the first and the last digit of each radix, and one more than that. */
+  private static void digitsShown() {
+    String digits = "0123456789abcdefghijklmnopqrstuvwxyz";
+    for (int radix = 2; radix <= 36; radix++) {
+      LibraryDesk x = numbers(0, radix - 1, radix, -radix, radix * radix - 1L);
+      String last = "" + digits.charAt(radix - 1);
+      is(x, 0, radix, "0");
+      is(x, 1, radix, last);
+      is(x, 2, radix, "10");
+      is(x, 3, radix, "-10");
+      is(x, 4, radix, last + last);
+      for (int v = 0; v < radix; v++) {
+        x.set(0, v);
+        is(x, 0, radix, "" + digits.charAt(v));
+      }
+    }
   }
 }

@@ -32,6 +32,7 @@ public final class EdgePatternTest {
     replacedNothing();
     replacedFurther();
     marks();
+    replacedByNineGroups();
     longReplaced();
     replaceLeavesGroups();
     Check.end("EdgePatternTest");
@@ -749,5 +750,11 @@ public final class EdgePatternTest {
     Check.tape(y, "x");
     Check.due(() -> y.replace(0, 1), 1);
     Check.due(() -> y.group(0, 0), -1);
+  }
+
+  /** "$ and a digit is that GROUP": $0 is all of it, $9 the ninth one; one digit alone belongs to the $. */
+  private static void replacedByNineGroups() {
+    replaces("(a)(b)(c)(d)(e)(f)(g)(h)(i)", "-abcdefghi-", "$9$8$7$6$5$4$3$2$1|$0|$10|$99|$$9", 1, "-ihgfedcba|abcdefghi|a0|i9|$9-");
+    replaces("(a)|b", "ab", "<$0$1$2$9>", 2, "<aa><b>");
   }
 }

@@ -24,9 +24,11 @@ public final class EdgeRowTest {
     ordersOfTwo();
     orderNumbers();
     turnedByAnyNumber();
+    turnedRound();
     mixedBySeeds();
     halvings();
     rowsInRisingOrder();
+    allRowsInRisingOrder();
     hashesWrap();
     sameRows();
     viewPlaces();
@@ -775,5 +777,45 @@ public final class EdgeRowTest {
     Check.due(() -> x.move(1, 4, 0), 3);
     Check.due(() -> x.move(1, 5, 0), 7);
     Check.due(() -> x.move(1, 7, 3), 2000);
+  }
+
+  /** 13: "turned round", of none, one, an even and an odd number; of a VIEW the others stay. */
+  private static void turnedRound() {
+    LibraryDesk x = Check.row(1, 2, 3, 4, 5);
+    Check.due(() -> x.list(0, 13, 0, 0), 5);
+    Check.holds(x, 0, 5, 4, 3, 2, 1);
+    x.view(0, 0, 1, 3);
+    Check.due(() -> x.list(1, 13, 0, 0), 2);
+    Check.holds(x, 0, 5, 3, 4, 2, 1);
+    x.view(0, 0, 4, 5);
+    x.view(0, 0, 5, 5);
+    Check.still(x, () -> x.list(2, 13, 0, 0), 1);
+    Check.still(x, () -> x.list(3, 13, 0, 0), 0);
+    x.view(0, 0, 1, 5);
+    Check.due(() -> x.list(4, 13, 0, 0), 4);
+    Check.holds(x, 0, 5, 1, 2, 4, 3);
+  }
+
+  /** 23: "the next row in rising order of all rows of the same ELEMENTS": each of them comes once, whatever is twice there. */
+  private static void allRowsInRisingOrder() {
+    int[][] firsts = {{1, 2, 3, 4}, {1, 1, 2, 2}, {1, 1, 1, 2}, {1, 2, 2, 3, 3}, {-2, -1, 0, 0, 7}};
+    int[] many = {24, 6, 4, 30, 60};
+    for (int i = 0; i < firsts.length; i++) {
+      LibraryDesk x = Check.row(firsts[i]);
+      int[] before = firsts[i];
+      for (int n = 1; n < many[i]; n++) {
+        Check.due(() -> x.list(0, 23, 0, 0), 1);
+        int[] now = new int[before.length];
+        for (int k = 0; k < now.length; k++) {
+          now[k] = (int) x.item(0, k, 0);
+        }
+        if (java.util.Arrays.compare(before, now) >= 0) {
+          Check.fail("a row behind is not behind");
+        }
+        before = now;
+      }
+      Check.due(() -> x.list(0, 23, 0, 0), 0);
+      Check.holds(x, 0, firsts[i]);
+    }
   }
 }

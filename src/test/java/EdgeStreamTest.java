@@ -28,6 +28,7 @@ public final class EdgeStreamTest {
     distinctOnes();
     decided();
     calledOnce();
+    oneBehindTheOther();
     listsMade();
     groupsMade();
     sourcesStay();
@@ -616,5 +617,50 @@ public final class EdgeStreamTest {
     Check.due(() -> y.stream(), 10);
     Check.tape(y, "list 10 | first");
     Check.due(() -> y.stream(), 3);
+  }
+
+  /** A STREAM begins anew, whatever the one before it was, and where that threw. */
+  private static void oneBehindTheOther() {
+    String[] tapes = {"range 0 9 | filter odd | skip 1 | limit 2 | sum", "iterate 1 * 2 | limit 5 | list", "range 0 5 | sorted 1 | copies 2 | first", "range 0 5 | distinct | until > 2 | count", "range 0 9 | group 4",
+        "iterate 5 + 1 | while < 8 | copies 3 | distinct | sum", "range 0 3 | copies 2 | map + 1 | list", "list 0 | sorted 0 | least", "range 0 0 | greatest", "range 3 9 | any > 5", "values 4 | fold 0 +"};
+    for (String first : tapes) {
+      for (String second : tapes) {
+        for (String fault : new String[] {"", "iterate 0 + 1 | sorted 0 | skip 3 | list", "range 0 9 | distinct | copies 3 | map / 0 | count", "list 23 | sum", "range 0 3 | sum x"}) {
+          LibraryDesk x = desk(first);
+          Check.of(() -> x.stream());
+          if (!fault.isEmpty()) {
+            Check.tape(x, fault);
+            Check.same(fault, Check.of(() -> x.stream()).startsWith("throws."), true);
+          }
+          Check.tape(x, second);
+          String got = Check.of(() -> x.stream());
+          LibraryDesk y = desk(second);
+          if (first.endsWith("list") || first.contains("group")) {
+            y.make(19, 0, 0);
+          }
+          Check.same(second + " behind " + first, got, Check.of(() -> y.stream()));
+          Check.same("CALLED", x.count(4), y.count(4));
+          if (second.endsWith("list") || second.contains("group")) {
+            int o = Integer.parseInt(got);
+            Check.same("what was made", State.of(x, o), State.of(y, o));
+          }
+        }
+      }
+    }
+    LibraryDesk x = desk("range 0 3 | list");
+    Check.due(() -> x.stream(), 21);
+    Check.tape(x, "range 5 9 | list");
+    Check.due(() -> x.stream(), 22);
+    Check.tape(x, "range 5 9 | group 3");
+    Check.due(() -> x.stream(), 23);
+    Check.holds(x, 21, 0, 1, 2);
+    Check.holds(x, 22, 5, 6, 7, 8);
+    Check.keys(x, 23, 0, 1, 2);
+    x.drop(21);
+    Check.tape(x, "list 22 | skip 2 | list");
+    Check.due(() -> x.stream(), 21);
+    Check.holds(x, 21, 7, 8);
+    x.list(21, 0, 9, 0);
+    Check.holds(x, 22, 5, 6, 7, 8);
   }
 }

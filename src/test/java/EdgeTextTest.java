@@ -14,12 +14,15 @@ public final class EdgeTextTest {
     differences();
     hashesWrap();
     sizes();
+    turnedRound();
+    lettersAtBothEnds();
     letters();
     blanks();
     timesItself();
     emptyTexts();
     checksums();
     base64Out();
+    outIsWritten();
     base64In();
     base64Faults();
     flagsOfFields();
@@ -33,6 +36,9 @@ public final class EdgeTextTest {
     numbersShown();
     bytesShown();
     filledUp();
+    fieldsByThemselves();
+    noughtsAheadOfEachDigit();
+    longForms();
     Check.end("EdgeTextTest");
   }
 
@@ -579,5 +585,111 @@ public final class EdgeTextTest {
     shows("%3c|%-3c|%1c", "  a|a  |a", 'a', 'a', 'a');
     shows("%5b|%-5b|%3b", " true|true |false", 1, 1, 0);
     shows("%5s|%-5s|%4s|%1s", " text|text |text|text", 1, 1, 1, 1);
+  }
+
+  /** 4: "turned round", of none, one, an even and an odd number of bytes. */
+  private static void turnedRound() {
+    for (String s : new String[] {"", "a", "ab", "abc", "abcd", "\u00ff\0\u0080z"}) {
+      LibraryDesk x = text(s);
+      Check.due(() -> x.text(0, 4, 0, 0), s.length());
+      is(x, new StringBuilder(s).reverse().toString());
+    }
+  }
+
+  /** 13, 14: the first byte and the last one, too. */
+  private static void lettersAtBothEnds() {
+    LibraryDesk x = text("azZA");
+    Check.due(() -> x.text(0, 13, 0, 0), 4);
+    is(x, "AZZA");
+    Check.due(() -> x.text(0, 14, 0, 0), 4);
+    is(x, "azza");
+    Check.due(() -> x.text(0, 12, 1, 0), 1);
+    Check.due(() -> x.text(0, 13, 0, 0), 1);
+    is(x, "A");
+  }
+
+  /** 16, 19: "OUT is it", whatever it was: what it had goes; a call that throws leaves it. */
+  private static void outIsWritten() {
+    LibraryDesk x = text("a long one, which was OUT");
+    Check.due(() -> x.text(0, 16, 0, 0), 25);
+    Check.due(() -> x.text(0, 12, 1, 0), 1);
+    Check.due(() -> x.text(0, 19, 0, 0), 4);
+    Check.same("OUT", Check.out(x), "YQ==");
+    Check.due(() -> x.text(0, 16, 0, 0), 1);
+    Check.same("OUT", Check.out(x), "a");
+    Check.due(() -> x.text(0, 19, 0, 0), 4);
+    Check.due(() -> x.text(0, 12, 0, 0), 0);
+    Check.due(() -> x.text(0, 19, 0, 0), 0);
+    Check.due(() -> x.count(1), 0);
+    Check.beyond(x, () -> x.word(0));
+    LibraryDesk y = row(1);
+    Check.text(y, "was OUT");
+    Check.due(() -> y.text(2, 16, 0, 0), 7);
+    Check.tape(y, "%d");
+    Check.due(() -> y.form(0), 1);
+    Check.same("OUT", Check.out(y), "1");
+    Check.tape(y, "%d%d");
+    Check.beyond(y, () -> y.form(0));
+    Check.same("OUT", Check.out(y), "1");
+    Check.tape(y, "");
+    Check.due(() -> y.form(0), 0);
+    Check.due(() -> y.count(1), 0);
+  }
+
+  /** Flags, width and cut are those of one FIELD, not of the next one. */
+  private static void fieldsByThemselves() {
+    shows("%5d%d", "    11", 1, 1);
+    shows("%-5d%5d%d", "1        11", 1, 1, 1);
+    shows("%05d%5d%d", "00001    11", 1, 1, 1);
+    shows("%+d%d", "+11", 1, 1);
+    shows("% d%d", " 11", 1, 1);
+    shows("%,d%d", "1,0001000", 1000, 1000);
+    shows("%.1s%s", "ttext", 1, 1);
+    shows("%.0b%b", "true", 0, 1);
+    shows("%99s%%%d", " ".repeat(95) + "text%1", 1, 1);
+    shows("%.10s|%.12s|%.03s|%.10b", "text|text|tex|false", 1, 1, 1, 0);
+    LibraryDesk x = Check.row(1, 1, 1, 1);
+    Check.text(x, "0123456789abcdefghijk");
+    Check.tape(x, "%.9s|%.10s|%.19s|%.20s");
+    Check.due(() -> x.form(0), 61);
+    Check.same("OUT", Check.out(x), "012345678|0123456789|0123456789abcdefghi|0123456789abcdefghij");
+    breaks("%.0d", 3);
+    breaks("%.0x", 3);
+    breaks("%.0o", 3);
+    breaks("%.0c", 3);
+    breaks("%.00d", 4);
+    breaks("%.0%", 3);
+  }
+
+  /** "0s behind the sign with 0", whatever digit the number begins with. */
+  private static void noughtsAheadOfEachDigit() {
+    for (int v = 0; v <= 9; v++) {
+      shows("%05d", "0000" + v, v);
+      shows("%05d", v == 0 ? "00000" : "-000" + v, -v);
+      shows("%+05d", "+000" + v, v);
+      shows("% 05d", " 000" + v, v);
+    }
+    shows("%05x", "0000f", 15);
+    shows("%05o", "00017", 15);
+    shows("%08x", "ffffffff", -1);
+    shows("%09x", "0ffffffff", -1);
+    shows("%012o", "037777777777", -1);
+    shows("%011o", "37777777777", -1);
+    shows("%,012d", "-0000001,234", -1234);
+    shows("%,d|%,d|%,d|%,d", "999|1,000|999,999|-1,000,000", 999, 1000, 999999, -1000000);
+    shows("%,d|%,d", "-2,147,483,648|2,147,483,647", LOW, HIGH);
+  }
+
+  /** THE TAPE has up to 4000 bytes: the last one of these is looked at, and written, too. */
+  private static void longForms() {
+    String most = "a".repeat(4000);
+    shows(most, most);
+    shows(most.substring(1) + "b", most.substring(1) + "b");
+    shows(most.substring(2) + "%d", most.substring(2) + "7", 7);
+    shows("%%".repeat(2000), "%".repeat(2000));
+    breaks(most.substring(1) + "%", 4000);
+    breaks(most.substring(2) + "%5", 4000);
+    breaks(most.substring(2) + "%y", 3999);
+    breaks("%".repeat(3999), 3999);
   }
 }

@@ -23,6 +23,9 @@ public final class EdgeThreadTest {
     interruptedOrNot();
     interruptsThatStay();
     interruptedWaits();
+    interruptedBeforeWait();
+    interruptedSleeps();
+    staysInItsPlace();
     looks();
     objectsOfAnotherKind();
     locksOfTheirOwn();
@@ -30,9 +33,12 @@ public final class EdgeThreadTest {
     fairOrNot();
     locksThatStay();
     conditions();
+    lockedBehindAWait();
+    keepsA();
     comesBackToAFreeLock();
     permits();
     permitsInOrder();
+    permitsOfEach();
     latches();
     barriers();
     queueRoom();
@@ -40,6 +46,7 @@ public final class EdgeThreadTest {
     offersAndPolls();
     cells();
     futures();
+    futuresGiveA();
     droppedWithARow();
     rings();
     syncs();
@@ -1095,5 +1102,225 @@ public final class EdgeThreadTest {
       Check.cast(x, () -> x.sync(at, 9));
     }
     Check.none(x, () -> x.sync(23, 9));
+  }
+
+  /** "READY: its next INSTRUCTION that would wait .. does not, A is -2, and that is over": a wait keeps the LOCK then; not its own is ahead of it. */
+  private static void interruptedBeforeWait() {
+    for (int fair = 0; fair < 2; fair++) {
+      LibraryDesk x = desk(13, 0, fair);
+      begin(x, "lock 0;lock 0;load 5;wait 0;wait 0;unlock 0", "lock 0;unlock 0");
+      steps(x, 0, 1, 1, 1);
+      steps(x, 1, 2);
+      Check.due(() -> x.interrupt(0), 1);
+      steps(x, 0, 1);
+      looks(x, 0, 1, -2, 4, -1, 0, 0);
+      Check.due(() -> x.sync(0, 0), 2);
+      Check.due(() -> x.sync(0, 2), 0);
+      Check.due(() -> x.sync(0, 3), 0);
+      looks(x, 1, 2);
+      steps(x, 0, 2);
+      looks(x, 0, 2, -2, 4, 0, 0, 0);
+      Check.due(() -> x.sync(0, 3), 1);
+      Check.due(() -> x.sync(0, 2), fair == 1 ? 1 : -1);
+    }
+    LibraryDesk y = desk(13, 0, 0);
+    begin(y, "wait 0");
+    Check.due(() -> y.interrupt(0), 1);
+    steps(y, 0, 5);
+    looks(y, 0, 5, 0, 0, -1, 1, 1);
+  }
+
+  /** "WAITING, SLEEPING: it leaves its row, A is -2, and it is READY behind its INSTRUCTION", whatever A was, in each row. */
+  private static void interruptedSleeps() {
+    String[] waits = {"sleep 1", "acquire 0 1", "await 1", "take 3", "join 4", "lock 5"};
+    for (String w : waits) {
+      LibraryDesk x = desk(14, 0, 0, 15, 1, 0, 16, 2, 0, 17, 1, 0, 19, 0, 0, 13, 0, 1);
+      begin(x, "lock 5", "load 7;" + w + ";load 8", "load 6;" + w);
+      steps(x, 0, 4);
+      int waiting = w.startsWith("sleep") ? 3 : 2;
+      steps(x, 1, 1, waiting);
+      steps(x, 2, 1, waiting);
+      looks(x, 1, waiting, 7, 1);
+      Check.due(() -> x.interrupt(1), 1);
+      looks(x, 1, 1, -2, 2, -1, 0, 0);
+      looks(x, 2, waiting, 6, 1);
+      Check.due(() -> x.interrupt(2), 1);
+      looks(x, 2, 4, -2, -1, -1, 0, 0);
+      steps(x, 1, 4);
+      looks(x, 1, 4, 8);
+      Check.due(() -> x.tick(9), 0);
+    }
+    LibraryDesk y = desk(17, 1, 0);
+    begin(y, "load 7;put 0;load 8;put 0", "load 9;put 0", "take 0;take 0");
+    steps(y, 0, 1, 1, 1, 2);
+    steps(y, 1, 1, 2);
+    Check.due(() -> y.interrupt(0), 1);
+    looks(y, 0, 4, -2);
+    steps(y, 2, 1);
+    looks(y, 2, 1, 7);
+    looks(y, 1, 4, 9);
+    steps(y, 2, 4);
+    looks(y, 2, 4, 9);
+  }
+
+  /** "it comes to the LOCK's first row as if signalled, or stays there": in its place, with the COUNT kept. */
+  private static void staysInItsPlace() {
+    LibraryDesk x = desk(13, 0, 1);
+    begin(x, "lock 0;lock 0;wait 0;load 9", "lock 0;wait 0;load 9", "lock 0;all 0;unlock 0", "lock 0;unlock 0");
+    steps(x, 0, 1, 1, 2);
+    steps(x, 1, 1, 2);
+    steps(x, 2, 1, 1);
+    steps(x, 3, 2);
+    Check.due(() -> x.sync(0, 1), 3);
+    Check.due(() -> x.interrupt(0), 1);
+    Check.due(() -> x.interrupt(1), 1);
+    Check.due(() -> x.interrupt(0), 1);
+    Check.due(() -> x.sync(0, 1), 3);
+    steps(x, 2, 4);
+    looks(x, 0, 1, -2, 3, -1, 0, 0);
+    Check.due(() -> x.sync(0, 2), 0);
+    Check.due(() -> x.sync(0, 0), 2);
+    looks(x, 1, 2, 0, 1, 0);
+    looks(x, 3, 2, 0, 0, 0);
+    LibraryDesk y = desk(13, 0, 1);
+    begin(y, "lock 0;wait 0;load 9", "lock 0;wait 0;load 9", "lock 0;unlock 0;load 1", "lock 0;unlock 0");
+    steps(y, 0, 1, 2);
+    steps(y, 1, 1, 2);
+    steps(y, 2, 1);
+    steps(y, 3, 2);
+    Check.due(() -> y.interrupt(1), 1);
+    Check.due(() -> y.interrupt(0), 1);
+    Check.due(() -> y.sync(0, 3), 0);
+    steps(y, 2, 1);
+    Check.due(() -> y.sync(0, 2), 3);
+    steps(y, 3, 4);
+    Check.due(() -> y.sync(0, 2), 1);
+    looks(y, 1, 1, -2, 2, -1);
+    looks(y, 0, 2, 0, 1, 0);
+  }
+
+  /** What was kept for a wait is over with it: the next LOCK that the THREAD waits for has COUNT 1, A stays, and an interrupt takes it out of its row. */
+  private static void lockedBehindAWait() {
+    for (int fair = 0; fair < 2; fair++) {
+      for (int way = 0; way < 2; way++) {
+        LibraryDesk x = desk(13, 0, fair, 13, 0, fair);
+        begin(x, "lock 0;lock 0;lock 0;wait 0;load 5;lock 1;load 6", "lock 1;lock 0;signal 0;unlock 0;unlock 1;unlock 9");
+        steps(x, 0, 1, 1, 1, 2);
+        steps(x, 1, 1, 1, 1, 1);
+        if (fair == 0) {
+          looks(x, 0, 1, 0, 3);
+          steps(x, 0, 1);
+        }
+        looks(x, 0, 1, 1, 4);
+        Check.due(() -> x.sync(0, 0), 3);
+        steps(x, 0, 1, 2);
+        looks(x, 0, 2, 5, 5, 1);
+        if (way == 0) {
+          Check.due(() -> x.interrupt(0), 1);
+          looks(x, 0, 1, -2, 6, -1);
+          Check.due(() -> x.sync(1, 1), 0);
+          Check.due(() -> x.sync(1, 2), 1);
+        } else {
+          steps(x, 1, 1);
+          if (fair == 0) {
+            steps(x, 0, 1);
+          }
+          looks(x, 0, 1, 5, 6, -1);
+          Check.due(() -> x.sync(1, 0), 1);
+          Check.due(() -> x.sync(1, 2), 0);
+          Check.due(() -> x.sync(1, 1), 0);
+        }
+        steps(x, 0, 4);
+        Check.due(() -> x.sync(0, 0), 3);
+      }
+    }
+    LibraryDesk y = desk(13, 0, 1);
+    begin(y, "lock 0;lock 0;wait 0", "lock 0;signal 0;unlock 0");
+    steps(y, 0, 1, 1, 2);
+    steps(y, 1, 1, 1, 4);
+    looks(y, 0, 4, 1);
+    begin(y, "unlock 0;unlock 0;lock 0;unlock 0");
+    steps(y, 0, 1, 1);
+    begin(y, "lock 0;lock 0;unlock 0;unlock 0");
+    steps(y, 1, 1, 1);
+    steps(y, 0, 2);
+    steps(y, 1, 1, 4);
+    looks(y, 0, 1, 0, 3);
+    Check.due(() -> y.sync(0, 0), 1);
+  }
+
+  /** A of those that wait stays as it was, but where the document tells another one. */
+  private static void keepsA() {
+    for (int fair = 0; fair < 2; fair++) {
+      LibraryDesk x = desk(13, 0, fair);
+      begin(x, "lock 0;unlock 0", "load 5;lock 0;load 6");
+      steps(x, 0, 1);
+      steps(x, 1, 1, 2);
+      looks(x, 1, 2, 5, 1, 0);
+      steps(x, 0, 4);
+      if (fair == 0) {
+        steps(x, 1, 1);
+      }
+      looks(x, 1, 1, 5, 2, -1);
+    }
+    LibraryDesk y = desk(14, 0, 0, 15, 1, 0, 17, 1, 0);
+    begin(y, "load 5;acquire 0 1;load 1", "load 6;await 1;load 1", "load 7;put 2;put 2;load 1", "load 9;release 0 1;down 1;take 2");
+    steps(y, 0, 1, 2);
+    steps(y, 1, 1, 2);
+    steps(y, 2, 1, 1, 2);
+    looks(y, 0, 2, 5);
+    looks(y, 1, 2, 6);
+    looks(y, 2, 2, 7);
+    steps(y, 3, 1, 1);
+    looks(y, 3, 1, 9);
+    looks(y, 0, 1, 5, 2);
+    steps(y, 3, 1);
+    looks(y, 3, 1, 9);
+    looks(y, 1, 1, 6, 2);
+    steps(y, 3, 4);
+    looks(y, 3, 4, 7);
+    looks(y, 2, 1, 7, 3);
+  }
+
+  /** "as long as the first that waits can have its n": the n of the INSTRUCTION where it stands, whichever that is. */
+  private static void permitsOfEach() {
+    LibraryDesk x = desk(14, 0, 0, 18, 0, 0);
+    begin(x, "load 9;load 9;acquire 0 3;load 1", "inc 1 7;acquire 0 2;load 1", "release 0 2;release 0 1;release 0 1;release 0 1");
+    steps(x, 0, 1, 1, 2);
+    steps(x, 1, 1, 2);
+    steps(x, 2, 1);
+    Check.due(() -> x.sync(0, 0), 2);
+    Check.due(() -> x.sync(0, 1), 2);
+    steps(x, 2, 1);
+    Check.due(() -> x.sync(0, 0), 0);
+    looks(x, 0, 1, 9, 3, -1);
+    looks(x, 1, 2, 7, 1, 0);
+    steps(x, 2, 1);
+    Check.due(() -> x.sync(0, 0), 1);
+    looks(x, 1, 2);
+    steps(x, 2, 4);
+    Check.due(() -> x.sync(0, 0), 0);
+    looks(x, 1, 1, 7, 2, -1);
+  }
+
+  /** "all that wait go on with it", "A is its VALUE": not with what they had. */
+  private static void futuresGiveA() {
+    LibraryDesk x = desk(19, 0, 0);
+    begin(x, "load 3;join 0;load 1", "load 4;join 0;load 1", "load -8;give 0;load 2;give 0;join 0", "load 6;join 0;load 1");
+    steps(x, 0, 1, 2);
+    steps(x, 1, 1, 2);
+    looks(x, 0, 2, 3, 1, 0);
+    steps(x, 2, 1, 1);
+    looks(x, 0, 1, -8, 2, -1);
+    looks(x, 1, 1, -8, 2, -1);
+    looks(x, 2, 1, 1, 2);
+    Check.due(() -> x.sync(0, 0), -8);
+    steps(x, 2, 1, 1);
+    looks(x, 2, 1, 0, 4);
+    Check.due(() -> x.sync(0, 0), -8);
+    steps(x, 3, 1, 1);
+    looks(x, 3, 1, -8, 2, -1);
+    steps(x, 2, 4);
+    looks(x, 2, 4, -8);
   }
 }

@@ -28,6 +28,13 @@ final class State {
     return s.seen.toString();
   }
 
+  /** What can be seen of OBJECT o alone. */
+  static String of(LibraryDesk x, int o) {
+    State s = new State(x);
+    s.object(o, (int) x.count(10 + o));
+    return s.seen.toString();
+  }
+
   private void see(Check.Call call) {
     String answer;
     try {
