@@ -16,6 +16,7 @@ public final class EdgeDeskTest {
     notThereIsAheadOfNoKind();
     noKindIsAheadOfTheRest();
     opsThatNoCallHas();
+    numbersThatDoNotMatter();
     staleIsAheadOfNotForThatKind();
     leastFreeNumber();
     madeAnew();
@@ -26,6 +27,7 @@ public final class EdgeDeskTest {
     tapeIsTaken();
     tapeIsTakenByTexts();
     tapeIsLeft();
+    callsBehindOthers();
     placeOfTheLatest();
     words();
     countsHaveAnEnd();
@@ -724,6 +726,112 @@ public final class EdgeDeskTest {
         fillTwo(x, kind);
         Check.same("KIND " + kind + " behind " + before + ", filled", State.of(x, 2), last);
       }
+    }
+  }
+
+  private interface With {
+    long go(LibraryDesk x, int a, int b);
+  }
+
+  /** What an op has no use for may be any number: it answers, and does, what it does with 0. */
+  private static void same(String what, With call, boolean first, boolean second) {
+    int[] any = {-1, 1, 3, 4, 24, 1001, 5000, Integer.MIN_VALUE, Integer.MAX_VALUE};
+    LibraryDesk y = Check.furnished();
+    String want = Check.of(() -> call.go(y, 0, 0));
+    String state = State.of(y);
+    for (int a : any) {
+      for (int b : any) {
+        if ((first || a == any[0]) && (second || b == any[0])) {
+          LibraryDesk x = Check.furnished();
+          Check.same(what + " with " + a + " and " + b, Check.of(() -> call.go(x, first ? a : 0, second ? b : 0)), want);
+          Check.same("all behind " + what, State.of(x), state);
+        }
+      }
+    }
+  }
+
+  /** All ops in the ranges that have no use for a, or for b, or for both. */
+  private static void numbersThatDoNotMatter() {
+    for (int op : new int[] {8, 13, 21, 22, 23, 24, 25, 27, 29}) {
+      same("list " + op, (x, a, b) -> x.list(0, op, a, b), true, true);
+    }
+    for (int op : new int[] {0, 2, 4, 5, 6, 7, 12, 14, 15, 17, 20, 28}) {
+      same("list " + op, (x, a, b) -> x.list(10, op, 0, b), false, op < 27);
+      same("list " + op, (x, a, b) -> x.list(0, op, 1, b), false, true);
+    }
+    for (int op : new int[] {10, 11, 26}) {
+      same("list " + op, (x, a, b) -> x.list(0, op, a, 10), true, false);
+    }
+    for (int op : new int[] {2, 3, 4, 5, 6, 7, 12, 14}) {
+      same("ring " + op, (x, a, b) -> x.ring(1, op, a), true, false);
+    }
+    for (int op : new int[] {4, 5, 10, 11, 12, 13, 18, 21, 22}) {
+      same("map " + op, (x, a, b) -> x.map(op > 20 ? 2 : 4, op, a, b), true, true);
+      same("map " + op, (x, a, b) -> x.map(op > 20 ? 2 : 20, op, a, b), true, true);
+    }
+    for (int op : new int[] {1, 2, 3, 9, 14, 15, 16, 17, 23}) {
+      same("map " + op, (x, a, b) -> x.map(4, op, 2, b), false, true);
+    }
+    for (int op : new int[] {19, 20}) {
+      same("map " + op, (x, a, b) -> x.map(3, op, a, 2), true, false);
+    }
+    for (int op : new int[] {1, 2, 4, 5, 6}) {
+      same("heap " + op, (x, a, b) -> x.heap(5, op, a), true, false);
+    }
+    for (int op : new int[] {0, 1, 2, 6, 7, 8, 9, 10, 19}) {
+      same("bits " + op, (x, a, b) -> x.bits(6, op, 2, b), false, true);
+    }
+    same("bits 11", (x, a, b) -> x.bits(6, 11, a, b), true, true);
+    same("bits 12", (x, a, b) -> x.bits(6, 12, a, b), true, true);
+    for (int op = 13; op <= 18; op++) {
+      int k = op;
+      same("bits " + op, (x, a, b) -> x.bits(6, k, a, 6), true, false);
+    }
+    for (int op : new int[] {0, 4, 10, 11, 13, 14, 15, 16, 18, 19, 20}) {
+      same("text " + op, (x, a, b) -> x.text(7, op, a, b), true, true);
+    }
+    for (int op : new int[] {1, 5, 7, 8, 12, 17}) {
+      same("text " + op, (x, a, b) -> x.text(7, op, 2, b), false, true);
+    }
+    same("text 9", (x, a, b) -> x.text(7, 9, 7, b), false, true);
+    for (int op = 0; op <= 5; op++) {
+      int k = op;
+      same("move " + op, (x, a, b) -> x.move(9, 0, 0) + 10 * x.move(9, k, a), true, false);
+    }
+    same("move 8", (x, a, b) -> x.drop(9) + x.cursor(4) + x.move(9, 0, 0) + 10 * x.move(9, 8, a), true, false);
+    same("view 2", (x, a, b) -> x.view(4, 2, 2, b), false, true);
+    same("view 3", (x, a, b) -> x.view(4, 3, 2, b), false, true);
+    same("view 4", (x, a, b) -> x.view(4, 4, a, b), true, true);
+    same("match 0", (x, a, b) -> x.match(8, 7, 0, a), true, false);
+    same("whole 9", (x, a, b) -> x.whole(11, 9, 11, b), false, true);
+    for (int op : new int[] {0, 1, 2, 6, 7}) {
+      same("decimal " + op, (x, a, b) -> x.decimal(12, op, 12, 12, b), false, true);
+    }
+    for (int op = 4; op <= 6; op++) {
+      int k = op;
+      same("decimal " + op, (x, a, b) -> x.decimal(12, k, 12, b, 8), false, true);
+    }
+    same("run", (x, a, b) -> x.run(a, 9), true, false);
+  }
+
+  /** What one call has written on its way is not seen by the next one. */
+  private static void callsBehindOthers() {
+    String[] before = {"", "YWJjZGVm", "x", "<%d>", "range 0 9 | sum", "load 1;load 2"};
+    for (int i = 0; i < before.length; i++) {
+      int k = i;
+      LibraryDesk x = Check.furnished();
+      Check.tape(x, before[i]);
+      Check.same(before[i], Check.of(() -> k == 0 ? 0 : k == 1 ? x.text(7, 20, 0, 0) : k == 2 ? x.replace(8, 7) : k == 3 ? x.form(0) : k == 4 ? x.stream() : x.thread()).startsWith("throws"), false);
+      x.text(7, 12, 0, 0);
+      Check.tape(x, "012345");
+      Check.due(() -> x.text(7, 0, 0, 0), 6);
+      Check.due(() -> x.text(7, 2, 2, 4), 4);
+      Check.same("TEXT", Check.textOf(x, 7), "0145");
+      Check.broken(x, "range 0 3; | count", () -> x.stream(), 8);
+      Check.broken(x, "range 0 3 ; | count", () -> x.stream(), 10);
+      Check.tape(x, "load 1;load 2");
+      Check.same("PROGRAM", Check.of(() -> x.thread()).startsWith("throws"), false);
+      Check.broken(x, "range 0 3;", () -> x.stream(), 8);
     }
   }
 }

@@ -17,6 +17,7 @@ public final class EdgePatternTest {
     ranges();
     weightOfEach();
     tooHeavyOrBroken();
+    oneBehindTheOther();
     bytesThatTheyTake();
     placesThatTheyAskFor();
     longTexts();
@@ -609,6 +610,13 @@ public final class EdgePatternTest {
     found("a{0}+b", "b", 0, 0, 1);
     found("(?:a*+)*b", "aab", 0, 0, 3);
     found("(a?)*+", "", 0, 0, 0, 0, 0, -1, -1);
+    found("(?:|a){1}+b", "ab", 1, 0, -1);
+    found("(?:|a){1}+b", "ab", 2, 0, 2);
+    found("(?:|a)?+b", "ab", 1, 0, -1);
+    found("(?:|a){0,1}b", "ab", 1, 0, 2);
+    found("(?:(a*+)b)*c", "aabbabc", 0, 0, 7, 0, 7, 4, 5);
+    found("(?:(?=(a+))a*+b?)*c", "aabac", 0, 0, 5, 0, 5, 3, 4);
+    found("((?=(.))(?:a|b++)*?)*", "abb", 0, 0, 3, 0, 3, 1, 3, 1, 2);
   }
 
   /** "lookahead without going back into it (its GROUPS stay, of (?! none)". */
@@ -756,5 +764,47 @@ public final class EdgePatternTest {
   private static void replacedByNineGroups() {
     replaces("(a)(b)(c)(d)(e)(f)(g)(h)(i)", "-abcdefghi-", "$9$8$7$6$5$4$3$2$1|$0|$10|$99|$$9", 1, "-ihgfedcba|abcdefghi|a0|i9|$9-");
     replaces("(a)|b", "ab", "<$0$1$2$9>", 2, "<aa><b>");
+  }
+
+  private static String seen(LibraryDesk x, int p, int t) {
+    StringBuilder b = new StringBuilder();
+    for (int how = 0; how <= 2; how++) {
+      int h = how;
+      b.append(Check.of(() -> x.match(p, t, h, 1))).append(' ');
+      for (int i = 0; i < 20; i++) {
+        b.append(x.group(i / 2, i % 2)).append(',');
+      }
+    }
+    return b.toString();
+  }
+
+  /** A PATTERN is read anew, whatever the one before it was, and where that was broken or too heavy; those that are there stay. */
+  private static void oneBehindTheOther() {
+    String[] good = {"(a*?)(b+)", "(a*)b{0,1}?", "[a-c]+x?", "[^b]", "[x-z]*+", "(?:(a)|(b)|c)*", "(?=(ab))a", "(?!b)\\w{2}", "((((a))))", "^.+$|", "\\bc\\b", "a{2,3}?|b{1}"};
+    String[] broken = {"", "(?=a", "(?!(a", "[a-z", "((((((((((", "a{3}{", "(a)(b)(c)(d)(e)(f)(g)(h)(i)(", "(a++)++(", "[^x-z]{20}".repeat(20) + "a"};
+    String[] texts = {"", "ab", "aabbc", "xyz", "c aab"};
+    for (String second : good) {
+      for (String text : texts) {
+        LibraryDesk y = new LibraryDesk();
+        y.make(18, 0, 0);
+        Check.tape(y, second);
+        y.pattern();
+        Check.text(y, text);
+        String want = seen(y, 1, 2);
+        for (String first : good) {
+          for (String fault : broken) {
+            LibraryDesk x = new LibraryDesk();
+            Check.tape(x, first);
+            Check.due(() -> x.pattern(), 0);
+            Check.tape(x, fault);
+            Check.same(fault, fault.isEmpty() || Check.of(() -> x.pattern()).startsWith("throws."), true);
+            Check.tape(x, second);
+            Check.due(() -> x.pattern(), 1);
+            Check.text(x, text);
+            Check.same("<" + second + "> behind <" + first + "> and <" + fault + "> in <" + text + ">", seen(x, 1, 2), want);
+          }
+        }
+      }
+    }
   }
 }

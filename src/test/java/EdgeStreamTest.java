@@ -322,6 +322,17 @@ public final class EdgeStreamTest {
     due("range 0 4975 | copies 100 | map + 0 | count", 497500, 497500);
     fails("range 0 4976 | copies 100 | map + 0 | count");
     due("range 0 5000 | copies 100 | limit 1 | count", 1, 0);
+    LibraryDesk x = desk("range 0 9900 | copies 100 | count");
+    for (int i = 0; i < 3; i++) {
+      Check.due("STREAM " + i + " with 999900 GIVEN", () -> x.stream(), 990000);
+      Check.tape(x, "range 0 10001 | count");
+      Check.arithmetic(x, () -> x.stream());
+      Check.tape(x, "range 0 10000 | count");
+      Check.due(() -> x.stream(), 10000);
+      Check.tape(x, "range 0 9901 | copies 100 | count");
+      Check.arithmetic(x, () -> x.stream());
+      Check.tape(x, "range 0 9900 | copies 100 | count");
+    }
   }
 
   /** "more than 2000 in sorted, distinct, list". */
@@ -585,6 +596,16 @@ public final class EdgeStreamTest {
     Check.due(() -> x.stream(), 23);
     Check.keys(x, 23, 0);
     Check.due(() -> x.map(23, 1, 0, 0), 18);
+    LibraryDesk z = desk("range 0 100 | map * -1 | group 200");
+    Check.due(() -> z.stream(), 21);
+    Check.due(() -> z.map(21, 4, 0, 0), 100);
+    Check.due(() -> z.map(21, 21, 0, 0), 256);
+    Check.due(() -> z.map(21, 22, 0, 0), 0);
+    Check.due(() -> z.item(21, 0, 0), 0);
+    for (int i = 1; i < 100; i++) {
+      int k = i;
+      Check.due(() -> z.item(21, k, 0), 100 + k);
+    }
     LibraryDesk y = Check.row(Integer.MIN_VALUE, Integer.MAX_VALUE, -1);
     Check.tape(y, "list 0 | group 10");
     Check.due(() -> y.stream(), 1);

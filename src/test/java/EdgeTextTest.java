@@ -691,5 +691,10 @@ public final class EdgeTextTest {
     breaks(most.substring(2) + "%5", 4000);
     breaks(most.substring(2) + "%y", 3999);
     breaks("%".repeat(3999), 3999);
+    LibraryDesk x = row();
+    for (String last : new String[] {"%", "%5", "%y", "%-d"}) {
+      String tape = "%d" + "a".repeat(3998 - last.length()) + last;
+      Check.broken(x, tape, () -> x.form(0), last.length() < 2 || last.equals("%5") ? 4000 : 3999);
+    }
   }
 }
