@@ -22,6 +22,7 @@ public final class EdgeDeskTest {
     madeAnew();
     makeRanges();
     makeOrder();
+    madeWithWhatDoesNotMatter();
     fullForAllThatMakeOne();
     dropsPartsOfParts();
     tapeIsTaken();
@@ -832,6 +833,62 @@ public final class EdgeDeskTest {
       Check.tape(x, "load 1;load 2");
       Check.same("PROGRAM", Check.of(() -> x.thread()).startsWith("throws"), false);
       Check.broken(x, "range 0 3;", () -> x.stream(), 8);
+    }
+  }
+
+  /** "(what a KIND has not does not matter)": it is the same whatever that is. */
+  private static void madeWithWhatDoesNotMatter() {
+    for (int kind : new int[] {0, 1, 4, 6, 7, 11, 12, 13, 14, 15, 16, 17, 18, 19}) {
+      boolean hasA = kind == 0 || kind == 1 || kind == 4 || kind >= 14 && kind <= 18;
+      boolean hasB = kind == 13;
+      LibraryDesk y = new LibraryDesk();
+      y.make(kind, 1, 1);
+      String made = State.of(y, 0);
+      fillOne(y, kind);
+      String filled = State.of(y, 0);
+      for (int any : new int[] {0, -1, 2, 5, 200, 1001, Integer.MIN_VALUE, Integer.MAX_VALUE}) {
+        LibraryDesk x = new LibraryDesk();
+        Check.due(() -> x.make(kind, hasA ? 1 : any, hasB ? 1 : any), 0);
+        Check.same("KIND " + kind + " with " + any, State.of(x, 0), made);
+        fillOne(x, kind);
+        Check.same("KIND " + kind + " with " + any + ", filled", State.of(x, 0), filled);
+      }
+    }
+    LibraryDesk x = new LibraryDesk();
+    x.make(11, 7, -7);
+    x.make(12, 7, -7);
+    for (int o = 0; o < 2; o++) {
+      int k = o;
+      Check.due(() -> x.show(k, 10), 1);
+      Check.same("OUT", Check.out(x), "0");
+      Check.due(() -> x.tell(k, 0), 0);
+      Check.due(() -> x.tell(k, 3), 1);
+    }
+    Check.due(() -> x.tell(1, 6), 0);
+    x.set(0, 12);
+    Check.due(() -> x.show(0, 10), 2);
+  }
+
+  private static void fillOne(LibraryDesk x, int kind) {
+    if (kind == 11 || kind == 12) {
+      Check.tape(x, "-120");
+      Check.due(() -> x.read(0, 10), 4);
+      Check.due(() -> x.show(0, 10), 4);
+      Check.same("OUT", Check.out(x), "-120");
+    } else if (kind == 13) {
+      Check.tape(x, "lock 0;lock 0");
+      x.thread();
+      x.run(1, 2);
+    } else if (kind == 19) {
+      Check.tape(x, "load 3;give 0");
+      x.thread();
+      x.run(1, 2);
+    } else if (kind == 7) {
+      Check.tape(x, "text");
+      x.text(0, 0, 0, 0);
+    } else if (kind == 4) {
+      x.map(0, 0, 1, 1);
+      x.map(0, 0, 2, 2);
     }
   }
 }

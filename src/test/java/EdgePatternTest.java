@@ -176,6 +176,19 @@ public final class EdgePatternTest {
     breaks("a{3,4,}", 5);
     breaks("a{-1}", 2);
     breaks("a{1.}", 3);
+    breaks("a{1,01}", 4);
+    breaks("a{2,00}", 4);
+    breaks("a{2,019}", 4);
+    for (int b = 32; b < 127; b++) {
+      if (b < '0' || b > '9') {
+        breaks("a{" + (char) b + "1}", 2);
+        breaks("a{1," + (b == '}' ? "" : (char) b + "1}"), 4);
+        if (b != ',' && b != '}') {
+          breaks("a{1" + (char) b + "}", 3);
+          breaks("a{1,1" + (char) b + "}", 5);
+        }
+      }
+    }
   }
 
   /** "no quantifier behind ^, $, \b, \B, (?=, (?!". */

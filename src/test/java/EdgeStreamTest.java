@@ -17,6 +17,7 @@ public final class EdgeStreamTest {
     keysAtTheLimit();
     byNought();
     intsWrap();
+    eachOfSomeElements();
     longSums();
     signs();
     limitsOfNone();
@@ -123,6 +124,18 @@ public final class EdgeStreamTest {
       breaks("range 1 " + n + " | first", n.isEmpty() ? 9 : 8);
       breaks("iterate " + n + " + 1 | first", n.isEmpty() ? 9 : 8);
       breaks("range 0 1 | fold " + n + " +", n.isEmpty() ? 18 : 17);
+    }
+    LibraryDesk x = desk("");
+    for (int b = 0; b < 256; b++) {
+      if (b != ' ' && (b < '0' || b > '9')) {
+        Check.broken(x, "range 0 1" + (char) b + " | count", () -> x.stream(), 8);
+        Check.broken(x, "range 0" + (char) b + " 1 | count", () -> x.stream(), 6);
+        Check.broken(x, "range 0 " + (char) b + " | count", () -> x.stream(), 8);
+        Check.broken(x, "range 0 1 | map + 1" + (char) b + "1 | count", () -> x.stream(), 18);
+        if (b != '-') {
+          Check.broken(x, "range 0 " + (char) b + "1 | count", () -> x.stream(), 8);
+        }
+      }
     }
   }
 
@@ -416,6 +429,36 @@ public final class EdgeStreamTest {
     Check.due(() -> of("greatest", low, high, 0), high);
     Check.due(() -> of("filter > -1 | count", low, high, 0, -1), 2);
     Check.due(() -> of("filter < 1 | count", low, high, 0, 1), 2);
+  }
+
+  /** Each F and each END of ELEMENTS that are all above 0, and all below. */
+  private static void eachOfSomeElements() {
+    due("range 5 9 | least", 5, 0);
+    due("range 5 9 | greatest", 8, 0);
+    due("range -9 -5 | least", -9, 0);
+    due("range -9 -5 | greatest", -6, 0);
+    due("range 5 6 | greatest", 5, 0);
+    due("range -6 -5 | least", -6, 0);
+    due("range 5 9 | sorted 1 | least", 5, 0);
+    due("range -9 -5 | sorted 1 | greatest", -6, 0);
+    due("range 5 9 | first", 5, 0);
+    due("range 5 9 | count", 4, 0);
+    due("range 5 9 | sum", 26, 0);
+    String[] f = {"neg", "abs", "+ 3", "- 3", "* 3", "/ 3", "% 3", "/ -3", "% -3", "* -3"};
+    long[] sums = {-3, 9, 21, -15, 9, 1, 0, -1, 0, -9};
+    for (int i = 0; i < f.length; i++) {
+      due("range -2 4 | map " + f[i] + " | sum", sums[i], 6);
+    }
+    due("range 4 7 | map % 3 | sum", 3, 3);
+    due("range -6 -3 | map % 3 | sum", -3, 3);
+    due("range -6 -3 | map % -3 | sum", -3, 3);
+    String[] g = {"+", "*", ">", "^"};
+    long[] folds = {19, 240, 6, 4 ^ 4 ^ 5 ^ 6};
+    for (int i = 0; i < g.length; i++) {
+      due("range 4 7 | fold " + (i == 1 ? 2 : 4) + " " + g[i], folds[i], 3);
+    }
+    due("range 4 7 | fold 9 >", 9, 3);
+    due("range -7 -4 | fold -9 >", -5, 3);
   }
 
   /** "sum (long)". */

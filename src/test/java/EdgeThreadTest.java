@@ -49,6 +49,7 @@ public final class EdgeThreadTest {
     futuresGiveA();
     droppedWithARow();
     rings();
+    ringsOfWaitingOnes();
     syncs();
     Check.end("EdgeThreadTest");
   }
@@ -146,6 +147,17 @@ public final class EdgeThreadTest {
     number("cas ", " 1 1", new String[] {"0", "23"}, new String[] {"24", "-1"});
     number("cas 0 ", " 1", new String[] {"-999999999", "999999999"}, new String[] {"x", "1000000000"});
     number("cas 0 1 ", "", new String[] {"-999999999", "999999999"}, new String[] {"x", "1000000000"});
+    LibraryDesk x = desk();
+    for (int b = 0; b < 256; b++) {
+      if (b != ' ' && b != ';' && (b < '0' || b > '9')) {
+        Check.broken(x, "load 1" + (char) b + ";end", () -> x.thread(), 5);
+        Check.broken(x, "load 1;inc 2 3" + (char) b + "4", () -> x.thread(), 13);
+        Check.broken(x, "load " + (char) b, () -> x.thread(), 5);
+        if (b != '-') {
+          Check.broken(x, "load " + (char) b + "1", () -> x.thread(), 5);
+        }
+      }
+    }
   }
 
   private static void number(String before, String behind, String[] may, String[] not) {
@@ -1074,6 +1086,22 @@ public final class EdgeThreadTest {
     steps(w, 1, 1, 2);
     steps(w, 0, 2);
     Check.due(() -> w.dead(), 0);
+  }
+
+  /** dead: "each WAITING": one that is READY in its row still is in no ring, until it waits on. */
+  private static void ringsOfWaitingOnes() {
+    LibraryDesk x = desk(13, 0, 0, 13, 0, 0);
+    begin(x, "lock 1;lock 0", "lock 0;unlock 0;lock 0;lock 1");
+    steps(x, 1, 1);
+    steps(x, 0, 1, 2);
+    steps(x, 1, 1);
+    looks(x, 0, 1, 0, 1, -1);
+    steps(x, 1, 1, 2);
+    Check.still(x, () -> x.dead(), -1);
+    steps(x, 0, 2);
+    Check.still(x, () -> x.dead(), 0);
+    Check.due(() -> x.interrupt(1), 1);
+    Check.still(x, () -> x.dead(), -1);
   }
 
   /** sync: "what 0 .. 4"; "(2 .. 4 of others: UnsupportedOperationException)". */
