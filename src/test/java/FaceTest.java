@@ -1,10 +1,24 @@
+import java.io.IOException;
+import java.lang.reflect.Constructor;
+import java.lang.reflect.Executable;
+import java.lang.reflect.Field;
+import java.lang.reflect.Method;
+import java.lang.reflect.Modifier;
+import java.nio.file.Files;
+import java.nio.file.Paths;
+import java.util.ArrayList;
+import java.util.List;
 import java.util.Random;
+import java.util.Set;
+import java.util.TreeSet;
+import java.util.regex.Matcher;
+import java.util.regex.Pattern;
 
 /** All calls with numbers of every sort: each answers, or throws what it may throw, by itself. */
 public final class FaceTest {
   private static Random r;
 
-  public static void main(String[] args) {
+  public static void main(String[] args) throws IOException {
     int games = args.length > 0 ? Integer.parseInt(args[0]) : 3000;
     for (int seed = 0; seed < games; seed++) {
       r = Check.random(seed);
@@ -225,20 +239,45 @@ public final class FaceTest {
     }
   }
 
-  /** The class has the members of the face, and no other ones that are not private. */
-  private static void faces() {
-    StringBuilder names = new StringBuilder();
-    java.lang.reflect.Method[] methods = LibraryDesk.class.getDeclaredMethods();
-    java.util.Arrays.sort(methods, (p, q) -> p.getName().compareTo(q.getName()));
-    for (java.lang.reflect.Method m : methods) {
-      if (!java.lang.reflect.Modifier.isPrivate(m.getModifiers()) && !m.isSynthetic()) {
-        names.append(m.getName()).append(' ');
+  /** The class has the members of the document's face, which answer and throw what it tells, and no other ones that are not private. */
+  private static void faces() throws IOException {
+    Set<String> told = new TreeSet<>();
+    Pattern member = Pattern.compile("public (\\w+ )?(\\w+)\\(([^)]*)\\)( throws [^;]*)?;");
+    Matcher m = member.matcher(Files.readString(Paths.get("../shared/DOC.md")));
+    while (m.find()) {
+      String types = m.group(3).replaceAll(" \\w+(?=,|$)", "");
+      Set<String> thrown = new TreeSet<>();
+      for (String e : m.group(4) == null ? new String[0] : m.group(4).replace(" throws ", "").split(", ")) {
+        thrown.add(e.substring(e.lastIndexOf('.') + 1));
+      }
+      told.add((m.group(1) == null ? "" : m.group(1)) + m.group(2) + "(" + types + ") " + thrown);
+    }
+    Set<String> has = new TreeSet<>();
+    for (Method x : LibraryDesk.class.getDeclaredMethods()) {
+      if (!Modifier.isPrivate(x.getModifiers()) && !x.isSynthetic()) {
+        has.add(x.getReturnType().getSimpleName() + " " + sign(x));
+        Check.same("" + x, Modifier.toString(x.getModifiers()), "public");
       }
     }
-    Check.same("the face", names, "between bits count cursor date dead decimal drop end feed form group heap interrupt item list look make map match move order part pattern plus read replace ring run set show step stream sync tell text thread tick view whole word ");
-    for (java.lang.reflect.Field f : LibraryDesk.class.getDeclaredFields()) {
-      Check.same("" + f, java.lang.reflect.Modifier.isPrivate(f.getModifiers()), true);
+    for (Constructor<?> x : LibraryDesk.class.getDeclaredConstructors()) {
+      has.add(sign(x));
     }
-    Check.same("one constructor", LibraryDesk.class.getConstructors().length, 1);
+    Check.same("the face", has, told);
+    for (Field x : LibraryDesk.class.getDeclaredFields()) {
+      Check.same("" + x, Modifier.isPrivate(x.getModifiers()), true);
+    }
+    Check.same("the class", Modifier.toString(LibraryDesk.class.getModifiers()), "public final");
+  }
+
+  private static String sign(Executable x) {
+    List<String> types = new ArrayList<>();
+    for (Class<?> type : x.getParameterTypes()) {
+      types.add(type.getSimpleName());
+    }
+    Set<String> thrown = new TreeSet<>();
+    for (Class<?> type : x.getExceptionTypes()) {
+      thrown.add(type.getSimpleName());
+    }
+    return x.getName() + "(" + String.join(", ", types) + ") " + thrown;
   }
 }
