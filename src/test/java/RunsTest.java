@@ -14,7 +14,7 @@ import java.util.stream.Stream;
 
 /**
  * Runs of at most 512 calls over the whole face. What each call answers stands behind it in
- * src/test/runs: a model in another language, written from the document alone, told it.
+ * src/test/runs: a model in another language, written anew from the document, told it.
  */
 public final class RunsTest {
   private static final Map<String, Method> FACE = new HashMap<>();
